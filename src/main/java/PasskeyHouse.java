@@ -334,10 +334,12 @@ public final class PasskeyHouse {
             return NONE;
         }
         int own = newOwn(h);
-        int status = agreeing(h, k);
+        writeAgreeing();
+        int status = k.receive(message);
         if (status != DONE) {
             return status;
         }
+        agreeWithAnswer(h, k.reply);
         int secretPin = encrypted(h, h.pin, h.pin.size());
         int proof = proofOf(h, secretPin, 0);
         beginPinMessage(SET_PIN, own, 5);
@@ -355,10 +357,12 @@ public final class PasskeyHouse {
             return NONE;
         }
         int own = newOwn(h);
-        int status = agreeing(h, k);
+        writeAgreeing();
+        int status = k.receive(message);
         if (status != DONE) {
             return status;
         }
+        agreeWithAnswer(h, k.reply);
         int secretPin = encrypted(h, tape, n);
         int secretHash = encryptedHash(h);
         int proof = proofOf(h, secretPin, secretHash);
@@ -379,10 +383,12 @@ public final class PasskeyHouse {
             return NONE;
         }
         int own = newOwn(h);
-        int status = agreeing(h, k);
+        writeAgreeing();
+        int status = k.receive(message);
         if (status != DONE) {
             return status;
         }
+        agreeWithAnswer(h, k.reply);
         int secretHash = encryptedHash(h);
         beginPinMessage(ASK_TOKEN, own, 4);
         message.push(6);
@@ -581,7 +587,11 @@ public final class PasskeyHouse {
         return true;
     }
 
-    private int agreeing(Hand h, Key k) {
+    private void agreeWithAnswer(Hand h, Bytes reply) {
+        agreeWith(h, rows.secretOf(reply.four(TERM_IN_PIN_ANSWER)));
+    }
+
+    private void writeAgreeing() {
         message.clear();
         message.push(DO_PIN);
         message.head(MAP, 2);
@@ -589,11 +599,6 @@ public final class PasskeyHouse {
         message.push(1);
         message.push(2);
         message.push(ASK_PUBLIC);
-        int status = k.receive(message);
-        if (status == DONE) {
-            agreeWith(h, rows.secretOf(k.reply.four(TERM_IN_PIN_ANSWER)));
-        }
-        return status;
     }
 
     private void beginPinMessage(int step, int own, int members) {
