@@ -2586,15 +2586,25 @@ public final class PasskeyHouse {
             for (int i = 0; i < offerCount && i < offers.length; i++) {
                 Offer met = offers[i];
                 if (met != null && met.challenge == challenge && met.kind == kind) {
-                    for (int j = i + 1; j < offerCount && j < offers.length; j++) {
-                        offers[j - 1] = offers[j];
-                    }
-                    offerCount--;
-                    offers[Math.min(Math.max(offerCount, 0), offers.length - 1)] = met;
+                    removeOffer(i);
                     return met;
                 }
             }
             return null;
+        }
+
+        /** Those behind it go forward; the row that it leaves is used again for a later offer. */
+        private void removeOffer(int place) {
+            int last = Math.min(offerCount, offers.length) - 1;
+            if (place < 0 || place > last) {
+                return;
+            }
+            Offer gone = offers[place];
+            for (int j = place; j < last; j++) {
+                offers[j] = offers[j + 1];
+            }
+            offers[last] = gone;
+            offerCount = last;
         }
 
         private int whyNoAccount(Terms rows, Bytes response, Offer met) {
