@@ -106,7 +106,7 @@ public final class PasskeyHouse {
 
     private static final int OF_CREATE = 1;
     private static final int OF_GET = 2;
-    // A key that an id is of by WRAP, not by one of its credentials.
+    // Stands for a credential's place where an id is of a key as a WRAP.
     private static final int WRAPPED = -2;
 
     private final Bytes tape;
@@ -302,7 +302,7 @@ public final class PasskeyHouse {
 
     public boolean token(int hand, int term) {
         Hand h = handAt(hand);
-        return h != null && hasSent(h, term);
+        return h != null && takeToken(h, term);
     }
 
     public boolean pin(int hand, int n) {
@@ -395,7 +395,7 @@ public final class PasskeyHouse {
         message.term(secretHash);
         status = k.receive(message);
         if (status == DONE) {
-            hasSent(h, k.reply.four(TERM_IN_PIN_ANSWER));
+            takeToken(h, k.reply.four(TERM_IN_PIN_ANSWER));
         }
         return status;
     }
@@ -579,7 +579,7 @@ public final class PasskeyHouse {
         h.agreed = rows.made();
     }
 
-    private boolean hasSent(Hand h, int term) {
+    private boolean takeToken(Hand h, int term) {
         if (h.agreed == 0 || rows.part(term, 0) != SENT || rows.part(term, 1) != h.agreed) {
             return false;
         }

@@ -25,8 +25,8 @@ public final class CborTest {
             canonical(true, item);
         }
         for (String item : new String[] {"1800", "1817", "190000", "1900ff", "1a00000000", "1a0000ffff", "1a80000000",
-            "1affffffff", "1b0000000100000000", "1c", "1d", "1e", "1f", "3817", "3900ff", "3a80000000", "3b0000000100000000",
-            "f0", "f3", "f6", "f7", "f814", "f815", "f820", "f90000", "fa00000000", "ff", "c000", "d81800", "da0001000000",
+            "1affffffff", "1b0000000100000000", "1b0000000000010000", "1c", "1d", "1e", "1f", "3817", "3900ff", "3a80000000", "3b0000000100000000",
+            "f0", "f3", "f6", "f7", "f814", "f815", "f820", "f90000", "fa00000000", "ff", "c0", "d818", "c000", "d81800", "da0001000000",
             "e0", "18", "1901", "1a000100", ""}) {
             canonical(false, item);
         }
@@ -39,7 +39,7 @@ public final class CborTest {
             canonical(true, item);
         }
         for (String item : new String[] {"41", "61", "4100" + "00", "5817" + "00".repeat(23), "5818" + "00".repeat(23),
-            "590018" + many, "5a7fffffff", "5f", "7f", "7fff", "5fff", "590100" + "00".repeat(255)}) {
+            "590018" + many, "5b0000000000010000", "5a7fffffff", "5f", "7f", "7fff", "5fff", "590100" + "00".repeat(255)}) {
             canonical(false, item);
         }
     }

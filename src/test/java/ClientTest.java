@@ -179,18 +179,31 @@ public final class ClientTest {
         Bench.lay(x, "a.ex");
         x.press(0);
         Bench.due("no party", x.create(0, 0, 5, -1, 7, 1, 4, 0), 0);
+        Bench.lay(x, "a.ex");
+        x.press(0);
+        Bench.due("higher bytes of w do not count", x.create(0, 0, 5, 0, 0x4000000107L, 1, 4, 0), 25);
+        Bench.due("an account of another user", join(x, 8, 0), 0);
+        x.press(0);
+        Bench.lay(x, "a.ex");
+        Bench.due("its own accounts alone are told", x.create(0, 0, 5, 0, 7, 1, 4, 0), 25);
+        Bench.lay(x, "a.ex");
+        Bench.due("for get too", x.get(0, 0, 5, 0, 7, 1, 4, 1), 0);
+        Bench.due("its own id", x.at(13), x.account(0, 0, 0));
+        Bench.lay(x, "a.ex");
+        Bench.due("and the other's", x.get(0, 0, 5, 0, 8, 1, 4, 1), 0);
+        Bench.due("its own id", x.at(13), x.account(0, 1, 0));
         Bench.due("a second account", join(x, 7, 4), 0);
         Bench.due("a third", join(x, 7, 5), 0);
         x.press(0);
         Bench.lay(x, "a.ex");
         Bench.due("one of three is excluded", x.create(0, 0, 5, 0, 7, 1, 4, 1), 25);
-        for (int i = 0; i < 5; i++) {
+        for (int i = 0; i < 4; i++) {
             Bench.due("more", join(x, 7, 4), 0);
         }
         Bench.due("eight", x.account(0, -1, 0), 8);
         x.press(0);
         Bench.lay(x, "a.ex");
-        Bench.due("eight are told", x.create(0, 0, 5, 0, 7, 1, 4, 3), 25);
+        Bench.due("seven are told", x.create(0, 0, 5, 0, 7, 1, 4, 3), 25);
         x.key();
         x.press(1);
         Bench.due("not of another key", x.create(0, 1, 5, 0, 7, 1, 4, 1), 0);
@@ -206,6 +219,8 @@ public final class ClientTest {
         Bench.due("unlock", Bench.unlock(x, 0, 0, "1234"), 0);
         Bench.lay(x, "a.ex");
         Bench.due("a token, but not how & 2", x.create(0, 0, 5, -1, 7, 1, 4, 0), 54);
+        Bench.due("how 1 too", x.create(0, 0, 5, -1, 7, 1, 4, 1), 54);
+        Bench.due("how 5 too", x.create(0, 0, 5, -1, 7, 1, 4, 5), 54);
         int terms = x.terms();
         Bench.due("passed, no press", x.create(0, 0, 6, -1, 7, 1, 4, 2), 39);
         sorts(x, "HASH, MARK", terms, 7, 10);
@@ -238,8 +253,14 @@ public final class ClientTest {
         Bench.holds("the response", Bench.tapeIs(x, 2, Bench.four(6), 4, "a.ex", Bench.four(id), 9, data, Bench.four(x.terms())));
         Bench.lay(x, 2, Bench.four(6), "a.ex");
         Bench.due("the HASH of the client data", x.seal(0, 0, -1), terms + 1);
+        Bench.lay(x, "a.ex");
+        Bench.due("how & 2 without a token", x.get(0, 0, 6, 0, 7, 1, 4, 3), 0);
+        Bench.due("flags", x.at(19), 0);
         Bench.setPin(x, 0, 0, "1234");
         Bench.due("unlock", Bench.unlock(x, 0, 0, "1234"), 0);
+        Bench.lay(x, "a.ex");
+        Bench.due("a token, but not how & 2", x.get(0, 0, 6, 0, 7, 1, 4, 1), 0);
+        Bench.due("flags", x.at(19), 0);
         Bench.lay(x, "a.ex");
         Bench.due("get by the PIN", x.get(0, 0, 6, 0, 7, 1, 4, 3), 0);
         Bench.due("flags", x.at(19), 4);
@@ -318,6 +339,12 @@ public final class ClientTest {
             int n = Bench.lay(x, names[i]);
             Bench.due("name " + names[i], x.get(0, 0, 5, -1, 7, 1, n, 0), due[i]);
         }
+        for (int n = 22; n <= 24; n++) {
+            Bench.lay(x, Bench.text(n));
+            x.page(2, n);
+            Bench.due("a name of " + n, x.get(2, 0, 5, -1, 7, 1, n, 0), 46);
+            Bench.due("for create too", x.create(2, 0, 5, -1, 7, 1, n, 0), 39);
+        }
         Bench.lay(x, "a");
         Bench.due("no page", x.get(1, 0, 5, -1, 7, 1, 1, 0), -2);
         Bench.lay(x, ".a");
@@ -336,7 +363,9 @@ public final class ClientTest {
         sorts(x, "PUBLIC alone", terms, 2);
         Bench.due("nothing agreed", x.seal(0, 1, 0), -1);
         Bench.due("changePin", x.changePin(0, 0, 0), -3);
+        sorts(x, "PUBLIC alone", terms + 1, 2);
         Bench.due("unlock", x.unlock(0, 0), -3);
+        sorts(x, "PUBLIC alone", terms + 2, 2);
         Bench.lay(x, "a.ex");
         terms = x.terms();
         Bench.due("create", x.create(0, 0, 5, -1, 7, 1, 4, 0), -3);

@@ -11,6 +11,10 @@ public final class FlashTest {
         failingInCredential();
         failingInReset();
         fullest();
+        pagesInOrder();
+        exactEnd();
+        checkOfErased();
+        headerOfErased();
         Bench.end();
     }
 
@@ -204,6 +208,100 @@ public final class FlashTest {
             Bench.due("area", x.told(0, 6), done ? 1 : 0);
             Bench.due("header is last", done, acts >= 16);
         }
+    }
+
+    /** Pages are erased from the first on, each as a whole, and none before its act. */
+    private static void pagesInOrder() {
+        for (int acts = 0; acts <= 4; acts++) {
+            int[] id = new int[1];
+            PasskeyHouse x = nearlyFull(id);
+            Bench.due("moves", Bench.signBy(x, 0, "a", id[0]), 0);
+            int[] was = new int[256];
+            for (int i = 0; i < 256; i++) {
+                was[i] = x.flash(0, i);
+            }
+            for (int i = 0; i < 18; i++) {
+                Bench.due("sign", Bench.signBy(x, 0, "a", id[0]), 0);
+            }
+            x.cut(0, acts);
+            Bench.due("moves back", Bench.signBy(x, 0, "a", id[0]), -3);
+            for (int i = 0; i < 256; i++) {
+                Bench.due("byte " + i + " after " + acts, x.flash(0, i), i < 64 * acts ? 255 : was[i]);
+            }
+            Bench.due("wakes", x.power(0, true), true);
+            Bench.due("in the area that was in use", x.told(0, 6), 1);
+            Bench.due("count", x.told(0, 11), 39);
+        }
+    }
+
+    /** A record that ends with the area needs no move. */
+    private static void exactEnd() {
+        PasskeyHouse x = new PasskeyHouse();
+        x.key();
+        int id = Bench.store(x, 0, "a", "user");
+        Bench.setPin(x, 0, 0, "1234");
+        for (int i = 0; i < 18; i++) {
+            Bench.due("sign", Bench.signBy(x, 0, "a", id), 0);
+        }
+        Bench.due("end", x.told(0, 7), 256);
+        Bench.due("generation", x.told(0, 5), 1);
+        x.power(0, false);
+        x.power(0, true);
+        Bench.due("end", x.told(0, 7), 256);
+        Bench.due("count", x.credential(0, 0, 2), 18);
+        Bench.due("generation", x.told(0, 5), 1);
+        Bench.due("sign", Bench.signBy(x, 0, "a", id), 0);
+        Bench.due("generation", x.told(0, 5), 2);
+        Bench.due("end", x.told(0, 7), 4 + 8 + 8 + 20 + 12 + 12);
+    }
+
+    /** A user by which the check of the CREDENTIAL would be 65535, which is written as 0. */
+    private static void checkOfErased() {
+        for (int v = 0; v < 1 << 24; v++) {
+            int[] all = {5, 15, 0, 0, 0, 3, 0, 0, 0, 2, 0, 0, 0, 3, v >> 16, v >> 8 & 255, v & 255};
+            int c = 0;
+            for (int b : all) {
+                c = (31 * c + b + 7) % 65536;
+            }
+            if (c == 65535) {
+                whole(Bench.bytes(v >> 16, v >> 8, v));
+                return;
+            }
+        }
+        Bench.holds("there is such a user", false);
+    }
+
+    private static void whole(byte[] user) {
+        PasskeyHouse x = new PasskeyHouse();
+        x.key();
+        x.press(0);
+        Bench.Pairs map = Bench.with(Bench.makeMap(1, "a", "u"), 3, Bench.map("id", user));
+        Bench.due("MAKE", Bench.send(x, 0, 1, Bench.more(map, 7, Bench.map("rk", true))), 0);
+        Bench.due("end", x.told(0, 7), 12 + 19);
+        Bench.due("check", x.flash(0, 29), 0);
+        Bench.due("check", x.flash(0, 30), 0);
+        x.power(0, false);
+        x.power(0, true);
+        Bench.due("it stands", x.told(0, 8), 1);
+    }
+
+    /** The check of generation 31 ends with 255: its header is whole before the last byte is written. */
+    private static void headerOfErased() {
+        PasskeyHouse x = new PasskeyHouse();
+        x.key();
+        Bench.lay(x, 7);
+        for (int generation = 2; generation <= 31; generation++) {
+            x.power(0, false);
+            x.power(0, true);
+            x.press(0);
+            if (generation == 31) {
+                x.cut(0, 15);
+            }
+            Bench.due("RESET to " + generation, x.command(0, 1), generation < 31 ? 1 : -3);
+        }
+        Bench.due("wakes", x.power(0, true), true);
+        Bench.due("generation", x.told(0, 5), 31);
+        Bench.due("area", x.told(0, 6), 0);
     }
 
     /** All that there is room for, with every count and fewer tries: each record finds its place still. */

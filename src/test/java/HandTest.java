@@ -50,6 +50,12 @@ public final class HandTest {
         Bench.due("its sort", x.sort(5), 3);
         x.key();
         Bench.due("a FRESH is none", x.agree(0, 6), false);
+        int third = x.own(2);
+        Bench.due("one and three", x.agree(0, third), true);
+        Bench.due("two and three", x.agree(1, third), true);
+        Bench.due("are two terms", x.terms(), 9);
+        Bench.due("three and one", x.agree(2, one), true);
+        Bench.due("is no other", x.terms(), 9);
     }
 
     private static void sealing() {

@@ -54,6 +54,11 @@ public final class KeyTest {
         Bench.due("off again", x.power(0, false), false);
         Bench.due("a message to one that is off", Bench.send(x, 0, 4), -3);
         Bench.due("it answered none", x.told(0, 4), 0);
+        x.press(0);
+        int terms = x.terms();
+        Bench.due("MAKE to one that is off", Bench.send(x, 0, 1, Bench.makeMap(1, "a", "u")), -3);
+        Bench.due("no term by that", x.terms(), terms);
+        Bench.due("no press taken", x.told(0, 2), 1);
         Bench.due("on", x.power(0, true), true);
         Bench.due("on again", x.power(0, true), true);
         Bench.due("told on", x.told(0, 0), 1);
@@ -128,6 +133,10 @@ public final class KeyTest {
         Bench.due("then it wakes", x.power(0, true), true);
         Bench.due("generation 2", x.told(0, 5), 2);
         Bench.due("its count", x.told(0, 11), 3);
+        int end = x.told(0, 7);
+        Bench.store(x, 0, "a", "u");
+        int secrets = 2 + 1 + 3 * 2;
+        Bench.due("a waking that fails makes no secrets", x.flash(0, 256 + end + 2 + 11), secrets + 1);
     }
 
     private static void commands() {
@@ -239,6 +248,16 @@ public final class KeyTest {
         Bench.due("on again", x.credential(0, 1, 2), 1);
     }
 
+    /** The secrets that RESET makes are seen by the number of the next one. */
+    private static void resetSecrets() {
+        PasskeyHouse x = new PasskeyHouse();
+        x.key();
+        x.press(0);
+        Bench.due("RESET", Bench.send(x, 0, 7), 0);
+        Bench.store(x, 0, "a", "u");
+        Bench.due("two for waking, two for RESET", x.flash(0, 256 + 12 + 2 + 11), 5);
+    }
+
     private static void reset() {
         PasskeyHouse x = new PasskeyHouse();
         x.key();
@@ -256,6 +275,9 @@ public final class KeyTest {
         x.power(0, false);
         Bench.due("a message while it is off", Bench.send(x, 0, 4), -3);
         x.power(0, true);
+        int asked = publicTerm(x);
+        x.power(0, false);
+        x.power(0, true);
         int terms = x.terms();
         int acts = x.told(0, 1);
         Bench.due("RESET", Bench.send(x, 0, 7), 0);
@@ -269,6 +291,7 @@ public final class KeyTest {
         }
         Bench.holds("its header", Bench.isHeader(x, 0, 1, 2));
         Bench.holds("MASTER", Bench.isRecord(x, 0, 1, 4, 1, Bench.four(terms + 1)));
+        Bench.holds("another secret to agree with", publicTerm(x) != asked);
         Bench.due("its credential is gone", Bench.signBy(x, 0, "a", id), 46);
         Bench.due("its wraps are gone", Bench.signBy(x, 0, "a", wrapped), 46);
         x.press(0);
@@ -276,5 +299,6 @@ public final class KeyTest {
         x.power(0, false);
         x.power(0, true);
         Bench.due("it woke so", x.told(0, 5), 2);
+        resetSecrets();
     }
 }

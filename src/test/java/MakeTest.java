@@ -72,7 +72,10 @@ public final class MakeTest {
         }
         status(x, "nothing", Bench.map(), 20);
         status(x, "no name", Bench.with(GOOD, 2, Bench.map()), 20);
-        status(x, "another name", Bench.with(GOOD, 2, Bench.map("ie", "a.ex")), 20);
+        for (String name : new String[] {"ie", "jd", "i", "idd", ""}) {
+            status(x, "another name", Bench.with(GOOD, 2, Bench.map(name, "a.ex")), 20);
+        }
+        status(x, "more than one", Bench.with(GOOD, 2, Bench.map("ic", 1, "id", "a.ex", "name", 1)), 39);
         status(x, "no user", Bench.with(GOOD, 3, Bench.map()), 20);
         status(x, "no alg", Bench.with(GOOD, 4, List.of(Bench.map("type", "public-key"))), 20);
         status(x, "no type", Bench.with(GOOD, 4, List.of(Bench.map("alg", -7))), 20);
@@ -148,7 +151,9 @@ public final class MakeTest {
         status(x, "-6", Bench.with(GOOD, 4, List.of(Bench.map("alg", -6, "type", "public-key"))), 38);
         status(x, "6", Bench.with(GOOD, 4, List.of(Bench.map("alg", 6, "type", "public-key"))), 38);
         status(x, "7", Bench.with(GOOD, 4, List.of(Bench.map("alg", 7, "type", "public-key"))), 38);
-        status(x, "another type", Bench.with(GOOD, 4, List.of(Bench.map("alg", -7, "type", "public"))), 38);
+        for (String type : new String[] {"public", "public-keys", "qublic-key", "public-kex", ""}) {
+            status(x, "type " + type, Bench.with(GOOD, 4, List.of(Bench.map("alg", -7, "type", type))), 38);
+        }
         status(x, "the second one", Bench.with(GOOD, 4, List.of(Bench.map("alg", -8, "type", "public-key"), good)), 39);
         status(x, "the first one", Bench.with(GOOD, 4, List.of(good, Bench.map("alg", -8, "type", "x"))), 39);
     }
@@ -189,6 +194,7 @@ public final class MakeTest {
         status(x, "of another hash", Bench.more(GOOD, 8, Bench.four(otherMark), 9, 1), 51);
         status(x, "five bytes", Bench.more(GOOD, 8, Bench.bytes(Bench.four(mark), 0), 9, 1), 51);
         status(x, "one byte", Bench.more(GOOD, 8, Bench.bytes(0), 9, 1), 51);
+        status(x, "no MARK of it is made", Bench.more(Bench.with(GOOD, 1, Bench.four(7)), 8, Bench.four(0), 9, 1), 51);
         status(x, "no PIN test", GOOD, 54);
         Bench.due("a press waits", x.told(0, 2), 1);
         Bench.due("passed", Bench.send(x, 0, 1, Bench.more(GOOD, 8, Bench.four(mark), 9, 1)), 0);

@@ -16,6 +16,9 @@ public final class PartyTest {
         counts();
         pins();
         accounts();
+        next();
+        users();
+        unmade();
         Bench.end();
     }
 
@@ -160,11 +163,20 @@ public final class PartyTest {
         Bench.due("the others stay", judge(x, 1, one), 4);
         Bench.due("a later one", judge(x, 2, four), 4);
         Bench.due("none is left", x.account(0, -1, 1), 0);
+        int[] all = new int[4];
+        for (int i = 0; i < 4; i++) {
+            all[i] = x.offer(0, 7, 1, true, false);
+        }
+        for (int i : new int[] {1, 3, 0, 2}) {
+            Bench.due("one of four", judge(x, 2, all[i]), 4);
+            Bench.due("it is gone", judge(x, 2, all[i]), 2);
+        }
+        Bench.due("none is left", x.account(0, -1, 1), 0);
         Bench.lay(x, "a.exa.ex");
         Bench.due("another party", x.party(4, 4), 1);
         int five = x.offer(1, 7, 1, true, false);
         Bench.due("of another party", judge(x, 2, five), 2);
-        Bench.due("others", x.account(0, -1, 3), 9);
+        Bench.due("others", x.account(0, -1, 3), 17);
         Bench.due("of the other", x.account(1, -1, 3), 0);
     }
 
@@ -396,6 +408,71 @@ public final class PartyTest {
         get(x, 7, false, 0);
         Bench.due("nor told", x.judge(0, -1), 0);
         Bench.due("logins", x.account(0, 0, 3), 3);
+    }
+
+    /** What NEXT signs is the hash of the list: the challenge must be that of SIGN. */
+    private static void next() {
+        for (int other = 0; other <= 1; other++) {
+            PasskeyHouse x = house();
+            create(x, 7, false, 1);
+            Bench.due("an account", x.judge(0, -1), 0);
+            x.press(0);
+            Bench.lay(x, "a.ex");
+            Bench.due("another credential", x.create(0, 0, 5, -1, 8, 1, 4, 1), 0);
+            int asked = x.offer(0, 7, 1, true, false);
+            x.press(0);
+            Bench.lay(x, "a.ex");
+            Bench.due("get", x.get(0, 0, asked + other, 0, 7, 1, 4, 8), 0);
+            Bench.lay(x, "a.ex");
+            Bench.due("next", x.get(0, 0, asked, 0, 7, 1, 4, 4), 0);
+            Bench.due("judge", x.judge(0, -1), other == 0 ? 0 : 8);
+        }
+    }
+
+    /** A user is so many lowest bytes of w, and no more. */
+    private static void users() {
+        PasskeyHouse x = house();
+        for (int m = 1; m <= 8; m++) {
+            x.withdraw(0);
+            int challenge = x.offer(0, -1L << 63 | 0x71f2f3f4f5f6f7f8L, m, false, false);
+            x.press(0);
+            Bench.lay(x, "a.ex");
+            Bench.due("create", x.create(0, 0, challenge, -1, 1, 1, 4, 0), 0);
+            Bench.due("judge", x.judge(0, -1), 0);
+            Bench.due("its bytes", x.account(0, m - 1, 4), m);
+            for (int j = 0; j < m; j++) {
+                Bench.due("byte", x.account(0, m - 1, 5 + j), 0xf8 - (m - 1 - j));
+            }
+            Bench.due("no more", x.account(0, m - 1, 5 + m), -1);
+            int id = x.account(0, m - 1, 0);
+            long other = m == 8 ? 0xf1f2f3f4f5f6f7f8L : 0xf1f2f3f4f5f6f7f8L ^ 1L << 8 * m;
+            x.press(0);
+            Bench.lay(x, "a.ex");
+            int asked = x.offer(0, other, m, true, false);
+            Bench.due("get", x.get(0, 0, asked, 0, other, m, 4, 0), 0);
+            Bench.due("its id", x.at(AT_ID + 3), id & 255);
+            Bench.due("judge", x.judge(0, -1), 0);
+        }
+    }
+
+    /** Where no term is made of what is compared, nothing is equal to it, not the number 0 either. */
+    private static void unmade() {
+        for (int sort = 0; sort < 2; sort++) {
+            PasskeyHouse x = house();
+            int challenge = x.offer(0, 7, 1, false, false);
+            Bench.lay(x, "a.ex");
+            int name = x.seal(1, 0, -1);
+            int own = x.own(1);
+            byte[] data = Bench.bytes(Bench.four(name), 65, Bench.four(0), Bench.four(1), Bench.four(own));
+            Bench.lay(x, data, Bench.four(0));
+            int signature = sort == 0 ? x.seal(1, 4, -1) : 0;
+            if (sort == 1) {
+                Bench.lay(x, 1, Bench.four(challenge), "a.ex");
+                Bench.due("HASH of the client data", x.sort(x.seal(1, 0, -1)), 7);
+            }
+            Bench.lay(x, 1, Bench.four(challenge), 4, "a.ex", Bench.four(1), 17, data, Bench.four(signature));
+            Bench.due("judge", x.judge(0, -1), 8);
+        }
     }
 
     private static void accounts() {

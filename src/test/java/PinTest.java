@@ -49,6 +49,14 @@ public final class PinTest {
         return x.seal(HAND, 0, -1);
     }
 
+    /** ENC by another hand, of what it agreed with hand 3. */
+    private static int elsewhere(PasskeyHouse x, Object... parts) {
+        x.own(2);
+        x.agree(2, x.own(3));
+        Bench.lay(x, parts);
+        return x.seal(2, 1, -1);
+    }
+
     private static Bench.Pairs set(PasskeyHouse x, int own, Object pin) {
         int five = enc(x, pin);
         int four = mac(x, Bench.four(five));
@@ -105,6 +113,10 @@ public final class PinTest {
         status(x, "3 of none", Bench.map(1, 1, 2, 5, 3, Bench.bytes(), 6, some), 2);
         status(x, "no PIN for 4", Bench.map(1, 1, 2, 4, 3, pub, 4, some, 5, some, 6, some), 53);
         status(x, "no PIN for 5", Bench.map(1, 1, 2, 5, 3, pub, 6, some), 53);
+        PasskeyHouse y = new PasskeyHouse();
+        y.own(HAND);
+        y.key();
+        status(y, "3 of three bytes, term 1 a PUBLIC", Bench.map(1, 1, 2, 3, 3, Bench.bytes("abc"), 4, some, 5, some), 2);
         int terms = x.terms();
         status(x, "nothing agreed", Bench.map(1, 1, 2, 3, 3, pub, 4, some, 5, some), 51);
         Bench.due("no term is made", x.terms(), terms);
@@ -125,9 +137,16 @@ public final class PinTest {
         int no = hash(x, "1234");
         free = mac(x, Bench.four(no));
         status(x, "5 is no ENC", Bench.map(1, 1, 2, 3, 3, Bench.four(own), 4, Bench.four(free), 5, Bench.four(no)), 55);
+        no = mac(x, "12345");
+        free = mac(x, Bench.four(no));
+        status(x, "5 is a MAC", Bench.map(1, 1, 2, 3, 3, Bench.four(own), 4, Bench.four(free), 5, Bench.four(no)), 55);
+        no = elsewhere(x, "12345");
+        free = mac(x, Bench.four(no));
+        status(x, "5 is ENC of another key", Bench.map(1, 1, 2, 3, 3, Bench.four(own), 4, Bench.four(free), 5, Bench.four(no)), 55);
+        status(x, "5 of which no MAC is made", Bench.with(Bench.with(good, 5, Bench.bytes("?")), 4, Bench.four(0)), 51);
         Bench.due("no PIN yet", x.told(0, 10), 0);
         int terms = x.terms();
-        Bench.due("set", Bench.send(x, 0, 6, good), 0);
+        Bench.due("set, with a member 6 that is passed over", Bench.send(x, 0, 6, Bench.more(good, 6, Bench.four(1))), 0);
         Bench.holds("0 alone", Bench.answers(x, 0, 0));
         Bench.due("HASH was there", x.terms(), terms);
         Bench.holds("PIN", Bench.isRecord(x, 0, 0, 12, 2, Bench.four(hash(x, "1234"))));
@@ -157,7 +176,7 @@ public final class PinTest {
         int first = mac(x, Bench.four(five));
         status(x, "4 of 5 alone", Bench.with(good, 4, Bench.four(first)), 51);
         int acts = x.told(0, 1);
-        Bench.due("change", Bench.send(x, 0, 6, good), 0);
+        Bench.due("change", Bench.send(x, 0, 6, Bench.more(good, 7, Bench.four(1))), 0);
         Bench.holds("0 alone", Bench.answers(x, 0, 0));
         Bench.due("TRIES twice and PIN", x.told(0, 1), acts + 5 + 5 + 8);
         int end = x.told(0, 7);

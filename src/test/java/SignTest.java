@@ -125,6 +125,9 @@ public final class SignTest {
         Bench.holds("COUNT", Bench.isRecord(x, 0, 0, x.told(0, 7) - 12, 4, Bench.bytes(Bench.four(stored), Bench.four(1))));
         Bench.due("its count", x.credential(0, 0, 2), 1);
         Bench.due("no list", Bench.send(x, 0, 8), 48);
+        int last = Bench.store(x, 0, "a.ex", "last");
+        Bench.due("the last by its id", Bench.signBy(x, 0, "a.ex", last), 0);
+        Bench.due("no list by an entry", Bench.send(x, 0, 8), 48);
         Bench.Pairs typed = Bench.map("id", Bench.four(wrapped), "type", "public");
         Bench.due("of another type", Bench.send(x, 0, 2,
             Bench.more(GOOD, 3, List.of(typed, Bench.entry(stored)), 5, Bench.map("up", false))), 0);

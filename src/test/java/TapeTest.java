@@ -7,6 +7,8 @@ public final class TapeTest {
         limit();
         poking();
         counting();
+        manyTerms();
+        termsOfClients();
         Bench.end();
     }
 
@@ -57,6 +59,8 @@ public final class TapeTest {
         Bench.due("the last", x.at(399), 7);
         Bench.due("feed above 400", x.feed(1, 1), -1);
         Bench.due("a whole tape is a term", x.seal(0, 0, -1), 1);
+        Bench.due("another last byte", x.poke(399, 8), 7);
+        Bench.due("another term", x.seal(0, 0, -1), 2);
         Bench.due("wipe 400", x.wipe(), 400);
     }
 
@@ -73,6 +77,49 @@ public final class TapeTest {
         Bench.due("still", x.at(0), 0);
         x.wipe();
         Bench.due("poke of a wiped byte", x.poke(0, 1), -1);
+    }
+
+    /** So many rows that some share what a quick search goes by; each keeps its number. */
+    private static void manyTerms() {
+        PasskeyHouse x = new PasskeyHouse();
+        x.feed(0, 8);
+        for (int round = 0; round < 2; round++) {
+            for (int i = 0; i < 120; i++) {
+                x.poke(i % 8, i);
+                Bench.due("term of row " + i, x.seal(0, 0, -1), 1 + i);
+            }
+            x.wipe();
+            x.feed(0, 8);
+        }
+        Bench.due("terms", x.terms(), 120);
+        PasskeyHouse y = new PasskeyHouse();
+        for (int i = 0; i < 50; i++) {
+            y.feed(i, 8);
+        }
+        for (int i = 0; i < 140; i++) {
+            y.poke(i, 200);
+            Bench.due("term of a long row", y.seal(0, 0, -1), 1 + i);
+        }
+        y.poke(139, 0);
+        Bench.due("an earlier one", y.seal(0, 0, -1) <= 139, true);
+        Bench.due("sort of the first", y.sort(1), 7);
+        Bench.due("sort of the last", y.sort(140), 7);
+    }
+
+    /** Clients make several terms a call, so that there are many before the calls end. */
+    private static void termsOfClients() {
+        PasskeyHouse x = new PasskeyHouse();
+        x.key();
+        Bench.setPin(x, 0, 0, "1234");
+        int terms = x.terms();
+        for (int i = 0; i < 150; i++) {
+            Bench.due("unlock", x.unlock(0, 0), 0);
+            Bench.due("terms", x.terms(), terms + 4 * (i + 1));
+        }
+        int[] sorts = {2, 3, 4, 9};
+        for (int i = 0; i < 100; i++) {
+            Bench.due("sort", x.sort(terms + 1 + 5 * i), sorts[5 * i % 4]);
+        }
     }
 
     private static void counting() {
