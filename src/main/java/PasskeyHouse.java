@@ -46,6 +46,7 @@ public final class PasskeyHouse {
     private static final int FALSE = 20;
     private static final int TRUE = 21;
     private static final int MOST_NESTED = 4;
+    private static final int MOST_NUMBER = 2147483647;
     // -7 is told as 6, negative, less 1.
     private static final int MINUS_SEVEN = 6;
     private static final int ROOT = 0;
@@ -1133,7 +1134,7 @@ public final class PasskeyHouse {
                 long least = x == 24 ? 24 : x == 25 ? 256 : 65536;
                 n = source.low(place, bytes);
                 place += bytes;
-                if (n < least || n > Integer.MAX_VALUE) {
+                if (n < least || n > MOST_NUMBER) {
                     return NONE;
                 }
             }

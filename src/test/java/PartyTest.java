@@ -434,18 +434,18 @@ public final class PartyTest {
         PasskeyHouse x = house();
         for (int m = 1; m <= 8; m++) {
             x.withdraw(0);
-            int challenge = x.offer(0, -1L << 63 | 0x71f2f3f4f5f6f7f8L, m, false, false);
+            int challenge = x.offer(0, 0xf2f3f4f5f6f7f8f9L, m, false, false);
             x.press(0);
             Bench.lay(x, "a.ex");
             Bench.due("create", x.create(0, 0, challenge, -1, 1, 1, 4, 0), 0);
             Bench.due("judge", x.judge(0, -1), 0);
             Bench.due("its bytes", x.account(0, m - 1, 4), m);
             for (int j = 0; j < m; j++) {
-                Bench.due("byte", x.account(0, m - 1, 5 + j), 0xf8 - (m - 1 - j));
+                Bench.due("byte", x.account(0, m - 1, 5 + j), 0xf9 - (m - 1 - j));
             }
             Bench.due("no more", x.account(0, m - 1, 5 + m), -1);
             int id = x.account(0, m - 1, 0);
-            long other = m == 8 ? 0xf1f2f3f4f5f6f7f8L : 0xf1f2f3f4f5f6f7f8L ^ 1L << 8 * m;
+            long other = m == 8 ? 0xf2f3f4f5f6f7f8f9L : 0xf2f3f4f5f6f7f8f9L ^ 1L << 8 * m;
             x.press(0);
             Bench.lay(x, "a.ex");
             int asked = x.offer(0, other, m, true, false);
