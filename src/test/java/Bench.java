@@ -1,11 +1,15 @@
 import java.io.ByteArrayOutputStream;
+import java.lang.reflect.Method;
 import java.nio.charset.StandardCharsets;
+import java.util.Arrays;
+import java.util.Comparator;
 import java.util.List;
 
 /** What the tests share: a count of wrong answers, messages written by hand, and a look at a key's flash. */
 final class Bench {
 
     private static int wrong = 0;
+    private static String sentence = "";
 
     private Bench() {
     }
@@ -13,7 +17,7 @@ final class Bench {
     static void due(String call, long got, long want) {
         if (got != want) {
             wrong++;
-            System.out.println(call + " answered " + got + ", due is " + want);
+            System.out.println(sentence + call + " answered " + got + ", due is " + want);
         }
     }
 
@@ -23,6 +27,34 @@ final class Bench {
 
     static void holds(String what, boolean so) {
         due(what, so, true);
+    }
+
+    /** Runs every test of a class that names a sentence of the document, and ends. */
+    static void run(Class<?> tests) {
+        Method[] all = tests.getDeclaredMethods();
+        Arrays.sort(all, Comparator.comparing(Method::getName));
+        int many = 0;
+        for (Method m : all) {
+            Sentence named = m.getAnnotation(Sentence.class);
+            if (named != null) {
+                many++;
+                sentence = named.value() + " | ";
+                call(m);
+            }
+        }
+        sentence = "";
+        System.out.println(many + " sentences");
+        holds("there are tests", many > 0);
+        end();
+    }
+
+    private static void call(Method m) {
+        try {
+            m.setAccessible(true);
+            m.invoke(null);
+        } catch (ReflectiveOperationException e) {
+            holds(m.getName() + " threw " + e.getCause(), false);
+        }
     }
 
     static void end() {
@@ -44,7 +76,7 @@ final class Bench {
 
     /** A map with pairs more behind those of another. */
     static Pairs more(Pairs first, Object... parts) {
-        Object[] all = java.util.Arrays.copyOf(first.parts(), first.parts().length + parts.length);
+        Object[] all = Arrays.copyOf(first.parts(), first.parts().length + parts.length);
         System.arraycopy(parts, 0, all, first.parts().length, parts.length);
         return new Pairs(all);
     }
