@@ -177,6 +177,19 @@ final class Bench {
         return "n".repeat(size);
     }
 
+    /** A house with a key. */
+    static PasskeyHouse house() {
+        PasskeyHouse x = new PasskeyHouse();
+        x.key();
+        return x;
+    }
+
+    /** Power of key 0 goes and comes. */
+    static void powerOver(PasskeyHouse x) {
+        due("goes", x.power(0, false), false);
+        due("comes", x.power(0, true), true);
+    }
+
     /** The tape becomes these bytes. */
     static int lay(PasskeyHouse x, Object... parts) {
         x.wipe();
@@ -314,33 +327,5 @@ final class Bench {
             }
         }
         return true;
-    }
-
-    /** All that can be seen of a house without changing it. */
-    static String seen(PasskeyHouse x) {
-        StringBuilder all = new StringBuilder();
-        all.append(x.terms()).append(';');
-        for (int i = 0; i <= 400; i++) {
-            all.append(x.at(i)).append(' ');
-        }
-        for (int k = 0; k < 3; k++) {
-            for (int w = 0; w < 12; w++) {
-                all.append(x.told(k, w)).append(',');
-            }
-            for (int i = 0; i < 512; i++) {
-                all.append(x.flash(k, i)).append(' ');
-            }
-            for (int i = 0; i < 400; i++) {
-                all.append(x.answer(k, i)).append(' ');
-            }
-        }
-        for (int p = 0; p < 4; p++) {
-            for (int i = -1; i < 8; i++) {
-                for (int w = 0; w < 13; w++) {
-                    all.append(x.account(p, i, w)).append(',');
-                }
-            }
-        }
-        return all.toString();
     }
 }

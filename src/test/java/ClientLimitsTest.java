@@ -22,15 +22,6 @@ public final class ClientLimitsTest {
         return x;
     }
 
-    /** A furnished house with these bytes on the tape. */
-    private static Supplier<PasskeyHouse> taped(Object... parts) {
-        return () -> {
-            PasskeyHouse x = Twins.furnished();
-            Bench.lay(x, parts);
-            return x;
-        };
-    }
-
     private static void sorts(PasskeyHouse x, String what, int from, int... want) {
         Bench.due(what + ": terms", x.terms(), from + want.length);
         for (int i = 0; i < want.length; i++) {
@@ -167,16 +158,16 @@ public final class ClientLimitsTest {
 
     @Sentence("Promise 26: NONE also when n is not 0 .. 12")
     static void changePinOfOtherN() {
-        Twins.refused(taped(Bench.text(40)), "changePin", x -> x.changePin(0, 0, 13), x -> x.changePin(0, 0, -1),
+        Twins.refused(Twins.taped(Bench.text(40)), "changePin", x -> x.changePin(0, 0, 13), x -> x.changePin(0, 0, -1),
             x -> x.changePin(0, 0, 14), x -> x.changePin(0, 0, LEAST), x -> x.changePin(0, 0, MOST));
     }
 
     @Sentence("Promise 26: NONE also when there are not so many")
     static void changePinOfNoBytes() {
-        Twins.refused(taped("567"), "changePin", x -> x.changePin(0, 0, 4), x -> x.changePin(0, 0, 12));
-        Twins.refused(taped(), "changePin of an empty tape", x -> x.changePin(0, 0, 1));
-        Bench.due("just so many", taped("567").get().changePin(0, 0, 3), 55);
-        Bench.due("none of an empty tape", taped().get().changePin(0, 0, 0), 55);
+        Twins.refused(Twins.taped("567"), "changePin", x -> x.changePin(0, 0, 4), x -> x.changePin(0, 0, 12));
+        Twins.refused(Twins.taped(), "changePin of an empty tape", x -> x.changePin(0, 0, 1));
+        Bench.due("just so many", Twins.taped("567").get().changePin(0, 0, 3), 55);
+        Bench.due("none of an empty tape", Twins.taped().get().changePin(0, 0, 0), 55);
     }
 
     // ---- Promise 27: unlock
@@ -269,7 +260,7 @@ public final class ClientLimitsTest {
 
     @Sentence("Promises 28, 29: FOREIGN: the client does not send it: nothing has changed")
     static void foreign() {
-        Twins.answered(taped("b.ex"), "FOREIGN", -2, x -> x.create(0, 0, 0, 0, 1, 1, NAME, 0), x -> x.create(0, 0, 5, -1, 1, 8, NAME, 7),
+        Twins.answered(Twins.taped("b.ex"), "FOREIGN", -2, x -> x.create(0, 0, 0, 0, 1, 1, NAME, 0), x -> x.create(0, 0, 5, -1, 1, 8, NAME, 7),
             x -> x.get(0, 0, 0, 0, 1, 1, NAME, 0), x -> x.get(0, 0, 5, -1, 1, 8, NAME, 15), x -> x.get(0, 0, 5, -1, 1, 8, NAME, 4),
             x -> x.create(3, 0, 5, -1, 1, 1, NAME, 0), x -> x.get(3, 0, 5, -1, 1, 1, NAME, 0));
     }
@@ -289,7 +280,7 @@ public final class ClientLimitsTest {
 
     @Sentence("Promises 28, 29: NONE goes before FOREIGN")
     static void noneBeforeForeign() {
-        Twins.refused(taped("b.ex"), "NONE", x -> x.create(4, 0, 1, -1, 1, 1, NAME, 0), x -> x.create(0, 3, 1, -1, 1, 1, NAME, 0),
+        Twins.refused(Twins.taped("b.ex"), "NONE", x -> x.create(4, 0, 1, -1, 1, 1, NAME, 0), x -> x.create(0, 3, 1, -1, 1, 1, NAME, 0),
             x -> x.create(0, 0, 1, 1, 1, 1, NAME, 0), x -> x.create(0, 0, 1, -1, 1, 9, NAME, 0), x -> x.create(0, 0, 1, -1, 1, 1, NAME, 8),
             x -> x.get(4, 0, 1, -1, 1, 1, NAME, 0), x -> x.get(0, 3, 1, -1, 1, 1, NAME, 0), x -> x.get(0, 0, 1, 1, 1, 1, NAME, 0),
             x -> x.get(0, 0, 1, -1, 1, 9, NAME, 0), x -> x.get(0, 0, 1, -1, 1, 1, NAME, 16));
@@ -335,6 +326,13 @@ public final class ClientLimitsTest {
             x -> x.create(3, 2, 1, -1, 1, 1, -1, 0), x -> x.create(3, 2, 1, -1, 1, 1, LEAST, 0), x -> x.create(3, 2, 1, -1, 1, 1, MOST, 0),
             x -> x.get(3, 2, 1, -1, 1, 1, 25, 0), x -> x.get(3, 2, 1, -1, 1, 1, 0, 0), x -> x.get(3, 2, 1, -1, 1, 1, -1, 4),
             x -> x.get(3, 2, 1, -1, 1, 1, LEAST, 0), x -> x.get(3, 2, 1, -1, 1, 1, MOST, 0));
+        Supplier<PasskeyHouse> point = () -> {
+            PasskeyHouse x = Twins.furnished();
+            Bench.lay(x, "a.");
+            x.page(3, 2);
+            return x;
+        };
+        Twins.refused(point, "no name behind a point", x -> x.create(3, 2, 1, -1, 1, 1, 0, 0), x -> x.get(3, 2, 1, -1, 1, 1, 0, 0));
         PasskeyHouse y = scene.get();
         y.page(3, 24);
         Bench.due("24", y.create(3, 2, 1, -1, 1, 1, 24, 0), 39);
@@ -344,10 +342,10 @@ public final class ClientLimitsTest {
 
     @Sentence("Promises 28, 29: NONE: or there are not so many")
     static void notSoMany() {
-        Twins.refused(taped("a.e"), "n", x -> x.create(0, 0, 1, -1, 1, 1, 4, 0), x -> x.create(0, 0, 1, -1, 1, 1, 24, 0),
+        Twins.refused(Twins.taped("a.e"), "n", x -> x.create(0, 0, 1, -1, 1, 1, 4, 0), x -> x.create(0, 0, 1, -1, 1, 1, 24, 0),
             x -> x.get(0, 0, 1, -1, 1, 1, 4, 0), x -> x.get(0, 0, 1, -1, 1, 1, 4, 4));
-        Twins.refused(taped(), "n of an empty tape", x -> x.create(0, 0, 1, -1, 1, 1, 1, 0), x -> x.get(0, 0, 1, -1, 1, 1, 1, 0));
-        Bench.due("just so many", taped("a.ex").get().get(0, 0, 1, -1, 1, 1, 4, 1), 0);
+        Twins.refused(Twins.taped(), "n of an empty tape", x -> x.create(0, 0, 1, -1, 1, 1, 1, 0), x -> x.get(0, 0, 1, -1, 1, 1, 1, 0));
+        Bench.due("just so many", Twins.taped("a.ex").get().get(0, 0, 1, -1, 1, 1, 4, 1), 0);
     }
 
     @Sentence("Promises 28, 29: NONE: m is not 1 .. 8")

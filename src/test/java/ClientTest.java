@@ -5,13 +5,11 @@ public final class ClientTest {
         settingPins();
         changingPins();
         unlocking();
-        pinNone();
         creating();
         creatingWithAccounts();
         creatingWithToken();
         getting();
         gettingNext();
-        refused();
         foreign();
         silent();
         Bench.end();
@@ -104,18 +102,6 @@ public final class ClientTest {
         Bench.lay(x, "tape");
         Bench.due("another token", x.seal(0, 3, -1) != mark, true);
         Bench.due("the old one of the other hand", x.seal(1, 3, -1), mark);
-    }
-
-    private static void pinNone() {
-        PasskeyHouse x = house("a");
-        String seen = Bench.seen(x);
-        Bench.due("setPin of hand 4", x.setPin(4, 0), -1);
-        Bench.due("setPin of hand -1", x.setPin(-1, 0), -1);
-        Bench.due("setPin of key 1", x.setPin(0, 1), -1);
-        Bench.due("unlock of hand 4", x.unlock(4, 0), -1);
-        Bench.due("unlock of key 1", x.unlock(0, 1), -1);
-        Bench.due("unlock of key -1", x.unlock(0, -1), -1);
-        Bench.holds("nothing changed", Bench.seen(x).equals(seen));
     }
 
     private static void creating() {
@@ -303,32 +289,6 @@ public final class ClientTest {
         Bench.due("they ended it", x.get(0, 0, 5, -1, 7, 1, 4, 4), 48);
         Bench.lay(x, "z");
         Bench.due("NEXT too is FOREIGN", x.get(0, 0, 5, -1, 7, 1, 1, 4), -2);
-    }
-
-    private static void refused() {
-        PasskeyHouse x = withAccount();
-        Bench.lay(x, Bench.text(24), "n");
-        x.page(0, 25);
-        x.press(0);
-        String seen = Bench.seen(x);
-        int[][] wrong = {{4, 0, 0, 1, 24, 0}, {-1, 0, 0, 1, 24, 0}, {0, 1, 0, 1, 24, 0}, {0, -1, 0, 1, 24, 0},
-            {0, 0, 1, 1, 24, 0}, {0, 0, -2, 1, 24, 0}, {0, 0, 0, 0, 24, 0}, {0, 0, 0, 9, 24, 0}, {0, 0, 0, 1, 0, 0},
-            {0, 0, 0, 1, 25, 0}, {0, 0, 0, 1, -1, 0}, {0, 0, 0, 1, 24, -1}};
-        for (int[] w : wrong) {
-            Bench.due("create", x.create(w[0], w[1], 0, w[2], 7, w[3], w[4], w[5]), -1);
-            Bench.due("get", x.get(w[0], w[1], 0, w[2], 7, w[3], w[4], w[5]), -1);
-        }
-        Bench.due("create how 8", x.create(0, 0, 0, 0, 7, 1, 24, 8), -1);
-        Bench.due("get how 16", x.get(0, 0, 0, 0, 7, 1, 24, 16), -1);
-        Bench.due("create FOREIGN", x.create(0, 0, 0, 0, 7, 1, 24, 7), -2);
-        Bench.due("get FOREIGN", x.get(0, 0, 0, 0, 7, 1, 24, 15), -2);
-        Bench.holds("nothing changed", Bench.seen(x).equals(seen));
-        Bench.lay(x, "abc");
-        Bench.due("not so many", x.create(0, 0, 0, 0, 7, 1, 4, 0), -1);
-        Bench.due("not so many", x.get(0, 0, 0, 0, 7, 1, 4, 0), -1);
-        Bench.lay(x, Bench.text(24));
-        x.page(0, 24);
-        Bench.due("a name of 24, a user of 8", x.create(0, 0, 0, 0, -1, 8, 24, 7), 0);
     }
 
     private static void foreign() {

@@ -2,6 +2,7 @@ import java.lang.reflect.InvocationTargetException;
 import java.lang.reflect.Method;
 import java.lang.reflect.Modifier;
 import java.util.ArrayList;
+import java.util.Arrays;
 import java.util.Comparator;
 import java.util.List;
 import java.util.Random;
@@ -11,22 +12,37 @@ public final class EdgeTest {
 
     private static final int[] EDGES = {Integer.MIN_VALUE, -4, -3, -2, -1, 0, 1, 2, 3, 4, 5, 7, 8, 9, 12, 13, 24, 25, 40, 41, 255,
         256, 399, 400, 401, 511, 512, 2000, 2001, Integer.MAX_VALUE};
+    private static final List<Method> CALLS = calls();
 
-    public static void main(String[] args) throws IllegalAccessException {
-        List<Method> calls = new ArrayList<>();
+    public static void main(String[] args) {
+        Bench.run(EdgeTest.class);
+    }
+
+    private static List<Method> calls() {
+        List<Method> all = new ArrayList<>();
         for (Method m : PasskeyHouse.class.getDeclaredMethods()) {
             if (Modifier.isPublic(m.getModifiers())) {
-                calls.add(m);
+                all.add(m);
             }
         }
-        calls.sort(Comparator.comparing(Method::getName));
+        all.sort(Comparator.comparing(Method::getName));
+        return all;
+    }
+
+    @Sentence("All promises: no call throws, and the same calls give the same answers")
+    static void sameAnswers() {
         for (int seed = 0; seed < 300; seed++) {
-            Bench.holds("the same answers, seed " + seed, run(calls, seed).equals(run(calls, seed)));
+            Bench.holds("seed " + seed, run(seed).equals(run(seed)));
         }
-        for (int seed = 0; seed < 40; seed++) {
-            refused(calls, seed);
+    }
+
+    @Sentence("All promises: A call that is refused (NONE, false) changes nothing")
+    static void refusedCalls() {
+        int refused = 0;
+        for (int seed = 0; seed < 400; seed++) {
+            refused += refusal(seed) ? 1 : 0;
         }
-        Bench.end();
+        Bench.holds("some calls were refused: " + refused, refused > 100);
     }
 
     private static int number(Random dice) {
@@ -49,46 +65,26 @@ public final class EdgeTest {
         return all;
     }
 
-    private static Object call(PasskeyHouse x, Method m, Object[] arguments) throws IllegalAccessException {
+    private static Object call(PasskeyHouse x, Method m, Object[] arguments) {
         try {
             return m.invoke(x, arguments);
-        } catch (InvocationTargetException e) {
-            Bench.holds(m.getName() + java.util.Arrays.toString(arguments) + " threw " + e.getCause(), false);
+        } catch (InvocationTargetException | IllegalAccessException e) {
+            Bench.holds(m.getName() + Arrays.toString(arguments) + " threw " + e.getCause(), false);
             return null;
         }
     }
 
-    /** A house in which there is something of everything. */
-    private static PasskeyHouse furnished(Random dice) {
-        PasskeyHouse x = new PasskeyHouse();
-        x.key();
-        x.key();
-        Bench.lay(x, "a.exa.ex");
-        x.party(4, 4);
-        x.page(0, 4);
-        x.page(1, 4);
-        Bench.setPin(x, 0, 0, "1234");
-        Bench.store(x, 1, "a.ex", "1");
-        Bench.store(x, 1, "a.ex", "22");
-        x.offer(0, 1, 1, false, false);
-        x.press(1);
-        Bench.lay(x, "a.ex");
-        Bench.due("create", x.create(0, 1, 0, 0, 1, 1, 4, dice.nextInt(2)), 0);
-        Bench.due("judge", x.judge(0, -1), 0);
-        Bench.due("unlock", Bench.unlock(x, 0, 0, "1234"), 0);
-        x.offer(0, 1, 1, true, dice.nextBoolean());
-        x.cut(dice.nextInt(2), dice.nextInt(100));
-        Bench.lay(x, "a.ex");
-        return x;
+    private static Object anyCall(PasskeyHouse x, Random dice) {
+        Method m = CALLS.get(dice.nextInt(CALLS.size()));
+        return call(x, m, arguments(m, dice));
     }
 
-    private static String run(List<Method> calls, int seed) throws IllegalAccessException {
+    private static String run(int seed) {
         Random dice = new Random(seed);
-        PasskeyHouse x = furnished(dice);
+        PasskeyHouse x = Twins.furnished();
         StringBuilder all = new StringBuilder();
-        for (int i = 0; i < 450; i++) {
-            Method m = calls.get(dice.nextInt(calls.size()));
-            all.append(call(x, m, arguments(m, dice))).append(' ');
+        for (int i = 0; i < 300; i++) {
+            all.append(anyCall(x, dice)).append(' ');
             if (dice.nextInt(20) == 0) {
                 Bench.lay(x, noise(dice));
             }
@@ -106,18 +102,33 @@ public final class EdgeTest {
         return all;
     }
 
-    private static void refused(List<Method> calls, int seed) throws IllegalAccessException {
+    /** A furnished house after some calls of any sort. */
+    private static PasskeyHouse after(int seed) {
         Random dice = new Random(seed);
-        PasskeyHouse x = furnished(dice);
-        for (int i = 0; i < 60; i++) {
-            Method m = calls.get(dice.nextInt(calls.size()));
-            Object[] arguments = arguments(m, dice);
-            String before = Bench.seen(x);
-            Object got = call(x, m, arguments);
-            boolean isNone = got instanceof Integer && ((Integer) got == PasskeyHouse.NONE || (Integer) got == PasskeyHouse.FOREIGN);
-            boolean isFalse = Boolean.FALSE.equals(got) && !m.getName().equals("power");
-            Bench.holds(m.getName() + java.util.Arrays.toString(arguments) + " was refused and changed something",
-                !(isNone || isFalse) || before.equals(Bench.seen(x)));
+        PasskeyHouse x = Twins.furnished();
+        int many = dice.nextInt(20);
+        for (int i = 0; i < many; i++) {
+            anyCall(x, dice);
         }
+        return x;
+    }
+
+    /** Whether the call that comes then is refused; if so, looks that it has changed nothing. */
+    private static boolean refusal(int seed) {
+        Random dice = new Random(-1 - seed);
+        Method m = CALLS.get(dice.nextInt(CALLS.size()));
+        Object[] arguments = arguments(m, dice);
+        Object got = call(after(seed), m, arguments);
+        boolean isNone = got instanceof Integer && ((Integer) got == PasskeyHouse.NONE || (Integer) got == PasskeyHouse.FOREIGN);
+        boolean isFalse = Boolean.FALSE.equals(got) && !m.getName().equals("power");
+        if (!isNone && !isFalse) {
+            return false;
+        }
+        Bench.holds(m.getName() + Arrays.toString(arguments) + " changed nothing, seed " + seed, Twins.areAlike(() -> after(seed), () -> {
+            PasskeyHouse x = after(seed);
+            call(x, m, arguments);
+            return x;
+        }));
+        return true;
     }
 }

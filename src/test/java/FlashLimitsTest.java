@@ -9,17 +9,6 @@ public final class FlashLimitsTest {
         Bench.run(FlashLimitsTest.class);
     }
 
-    private static PasskeyHouse house() {
-        PasskeyHouse x = new PasskeyHouse();
-        x.key();
-        return x;
-    }
-
-    private static void powerOver(PasskeyHouse x) {
-        Bench.due("goes", x.power(0, false), false);
-        Bench.due("comes", x.power(0, true), true);
-    }
-
     private static void told(PasskeyHouse x, String what, int... want) {
         for (int i = 0; i < want.length; i++) {
             Bench.due(what + ": told " + (5 + i), x.told(0, 5 + i), want[i]);
@@ -40,10 +29,10 @@ public final class FlashLimitsTest {
 
     @Sentence("FLASH (promises 11, 15): so many acts are done still, the next one is not, and the key is OFF")
     static void actsBeforePowerFails() {
-        PasskeyHouse whole = house();
+        PasskeyHouse whole = Bench.house();
         Bench.due("MAKE", store(whole, "a", Bench.bytes("user")), 0);
         for (int acts = 0; acts <= WHOLE + 1; acts++) {
-            PasskeyHouse x = house();
+            PasskeyHouse x = Bench.house();
             Bench.due("cut", x.cut(0, acts), true);
             Bench.due("MAKE with " + acts, store(x, "a", Bench.bytes("user")), acts < WHOLE ? -3 : 0);
             int done = Math.min(acts, WHOLE);
@@ -57,23 +46,23 @@ public final class FlashLimitsTest {
 
     @Sentence("FLASH (promise 11): when so many acts are done and there is no next one, the key stays on until there is one")
     static void allActsDone() {
-        PasskeyHouse x = house();
+        PasskeyHouse x = Bench.house();
         x.cut(0, WHOLE);
         Bench.due("MAKE", store(x, "a", Bench.bytes("user")), 0);
         Bench.due("on", x.told(0, 0), 1);
         Bench.due("what writes nothing is answered", Bench.send(x, 0, 4), 0);
         Bench.due("a WRAP writes nothing", Bench.wrap(x, 0, "a") > 0, true);
-        powerOver(x);
+        Bench.powerOver(x);
         Bench.due("on", x.told(0, 0), 1);
         Bench.due("the next act", store(x, "b", Bench.bytes("u")), -3);
         Bench.due("off", x.told(0, 0), 0);
         Bench.due("acts", x.told(0, 1), WHOLE);
-        Bench.holds("not written", Bench.isErased(x, 0, 32, 512));
+        Bench.holds("not written", Bench.isErased(x, 0, 32, 300));
     }
 
     @Sentence("FLASH (promise 11): it is told no more then")
     static void toldNoMore() {
-        PasskeyHouse x = house();
+        PasskeyHouse x = Bench.house();
         x.cut(0, 3);
         Bench.due("MAKE", store(x, "a", Bench.bytes("user")), -3);
         Bench.due("it wakes and moves", x.power(0, true), true);
@@ -81,21 +70,21 @@ public final class FlashLimitsTest {
         for (int i = 0; i < 5; i++) {
             Bench.due("MAKE", store(x, "a", Bench.bytes(i)), 0);
         }
-        powerOver(x);
+        Bench.powerOver(x);
         Bench.due("on", x.told(0, 0), 1);
     }
 
     @Sentence("FLASH (promise 12): a PAGE of 64 bytes is erased as one act, in order, and none before its act")
     static void pages() {
         for (int acts = 0; acts <= 4; acts++) {
-            PasskeyHouse x = house();
+            PasskeyHouse x = Bench.house();
             reset(x, 2);
             for (int i = 0; i < 13; i++) {
                 Bench.due("MAKE", store(x, "a", Bench.bytes("u" + i % 2)), 0);
             }
             Bench.due("area 1 is nearly full of records", x.told(0, 7), 12 + 13 * 18);
             reset(x, 3);
-            powerOver(x);
+            Bench.powerOver(x);
             x.press(0);
             x.cut(0, acts);
             Bench.due("RESET", Bench.send(x, 0, 7), -3);
@@ -109,7 +98,7 @@ public final class FlashLimitsTest {
     }
 
     private static void reset(PasskeyHouse x, int generation) {
-        powerOver(x);
+        Bench.powerOver(x);
         x.press(0);
         Bench.due("RESET", Bench.send(x, 0, 7), 0);
         Bench.due("generation", x.told(0, 5), generation);
@@ -134,13 +123,13 @@ public final class FlashLimitsTest {
 
     @Sentence("FLASH, THE CHECK (promise 15): in the end 65535 counts as 0")
     static void checkOf65535() {
-        PasskeyHouse x = house();
+        PasskeyHouse x = Bench.house();
         Bench.due("MAKE", store(x, "a", userWith(65535, 65535)), 0);
         Bench.due("high", x.flash(0, 29), 0);
         Bench.due("low", x.flash(0, 30), 0);
-        powerOver(x);
+        Bench.powerOver(x);
         told(x, "it is a record", 1, 0, 31, 1);
-        PasskeyHouse y = house();
+        PasskeyHouse y = Bench.house();
         y.cut(0, 17);
         Bench.due("MAKE without its check", store(y, "a", userWith(65535, 65535)), -3);
         y.power(0, true);
@@ -149,11 +138,11 @@ public final class FlashLimitsTest {
 
     @Sentence("FLASH, THE CHECK (promise 15): 65534 and 0 are written as they are")
     static void checksBeside() {
-        PasskeyHouse x = house();
+        PasskeyHouse x = Bench.house();
         Bench.due("MAKE", store(x, "a", userWith(65535, 65534)), 0);
         Bench.due("high", x.flash(0, 29), 255);
         Bench.due("low", x.flash(0, 30), 254);
-        PasskeyHouse y = house();
+        PasskeyHouse y = Bench.house();
         Bench.due("MAKE", store(y, "a", userWith(65535, 0)), 0);
         Bench.due("high", y.flash(0, 29), 0);
         Bench.due("low", y.flash(0, 30), 0);
@@ -161,13 +150,13 @@ public final class FlashLimitsTest {
 
     @Sentence("FLASH (promises 9, 16): a record whose check ends with 255 is right before its last byte is written")
     static void checkThatEndsErased() {
-        PasskeyHouse x = house();
+        PasskeyHouse x = Bench.house();
         x.cut(0, 18);
         Bench.due("MAKE", store(x, "a", userWith(255, 255)), -3);
         Bench.due("wakes", x.power(0, true), true);
         told(x, "it is a record", 1, 0, 31, 1);
         Bench.due("no move", x.told(0, 1), 18);
-        PasskeyHouse y = house();
+        PasskeyHouse y = Bench.house();
         y.cut(0, 17);
         Bench.due("MAKE", store(y, "a", userWith(255, 255)), -3);
         Bench.due("wakes", y.power(0, true), true);
@@ -177,12 +166,12 @@ public final class FlashLimitsTest {
     @Sentence("FLASH, RECORDS (promise 12): 5 CREDENTIAL (13 .. 20): the user, 1 .. 8 bytes")
     static void credentialLengths() {
         for (int u = 1; u <= 8; u++) {
-            PasskeyHouse x = house();
+            PasskeyHouse x = Bench.house();
             byte[] user = Bench.bytes("\u00ff\u0000xyz\u0080\u007f\u0001".substring(0, u));
             Bench.due("MAKE", store(x, "a", user), 0);
             Bench.holds("CREDENTIAL with " + u, Bench.isRecord(x, 0, 0, 12, 5,
                 Bench.bytes(Bench.four(3), Bench.four(2), Bench.four(3), user)));
-            powerOver(x);
+            Bench.powerOver(x);
             told(x, "it wakes", 1, 0, 12 + 16 + u, 1, 8, 0, 0);
             Bench.due("bytes", x.credential(0, 0, 3), u);
             for (int j = 0; j < u; j++) {
@@ -193,29 +182,75 @@ public final class FlashLimitsTest {
 
     @Sentence("FLASH, HEADER (promise 16): a GENERATION (two bytes, from 1 on), above 255 too")
     static void generationAbove255() {
-        int least = 0;
-        int most = 420;
-        while (most - least > 1) {
-            int middle = (least + most) / 2;
-            if (crowded(middle).told(0, 5) >= 256) {
-                most = middle;
-            } else {
-                least = middle;
+        for (int generation = 256; generation <= 257; generation++) {
+            int least = 0;
+            int most = 420;
+            while (most - least > 1) {
+                int middle = (least + most) / 2;
+                if (crowded(middle).told(0, 5) >= generation) {
+                    most = middle;
+                } else {
+                    least = middle;
+                }
             }
+            PasskeyHouse x = crowded(most);
+            int area = 1 - generation % 2;
+            Bench.due("generation", x.told(0, 5), generation);
+            Bench.holds("its header", Bench.isHeader(x, 0, area, generation));
+            Bench.holds("the other's", Bench.isHeader(x, 0, 1 - area, generation - 1));
+            int end = x.told(0, 7);
+            Bench.powerOver(x);
+            told(x, "it wakes", generation, area, end, 6, 8, 1, 1);
         }
-        PasskeyHouse x = crowded(most);
-        int area = x.told(0, 6);
-        Bench.due("generation", x.told(0, 5), 256);
-        Bench.holds("its header", Bench.isHeader(x, 0, area, 256));
-        Bench.holds("the other's", Bench.isHeader(x, 0, 1 - area, 255));
-        int end = x.told(0, 7);
-        powerOver(x);
-        told(x, "it wakes", 256, area, end, 6, 8, 1, 1);
+    }
+
+    @Sentence("FLASH, WAKES (promises 9, 16): a header whose check ends with 255 is good before its last byte is written")
+    static void headerThatEndsErased() {
+        for (int acts = 14; acts <= 15; acts++) {
+            PasskeyHouse x = Bench.house();
+            Bench.lay(x, 7);
+            for (int generation = 2; generation <= 31; generation++) {
+                Bench.powerOver(x);
+                x.press(0);
+                if (generation == 31) {
+                    x.cut(0, acts);
+                }
+                Bench.due("RESET to " + generation, x.command(0, 1), generation < 31 ? 1 : -3);
+            }
+            Bench.due("wakes", x.power(0, true), true);
+            told(x, "with " + acts, acts == 15 ? 31 : 30, acts == 15 ? 0 : 1, 12, 0, 8, 0, 0);
+        }
+    }
+
+    @Sentence("FLASH, RECORDS (promises 12, 15): 5 CREDENTIAL: its secret (4 bytes), above 255 too")
+    static void secretAbove255() {
+        PasskeyHouse x = Bench.house();
+        Bench.lay(x, "aa");
+        x.party(1, 1);
+        x.page(0, 1);
+        for (int secret = 3; secret <= 299; secret++) {
+            x.own(1);
+        }
+        x.offer(0, 7, 1, false, false);
+        x.press(0);
+        Bench.lay(x, "a");
+        Bench.due("create", x.create(0, 0, 0, 0, 7, 1, 1, 1), 0);
+        Bench.due("judge", x.judge(0, -1), 0);
+        int[] want = {0, 0, 1, 44};
+        for (int i = 0; i < 4; i++) {
+            Bench.due("byte " + i, x.flash(0, 12 + 2 + 8 + i), want[i]);
+        }
+        Bench.powerOver(x);
+        x.offer(0, 7, 1, true, false);
+        x.press(0);
+        Bench.lay(x, "a");
+        Bench.due("get", x.get(0, 0, 0, 0, 7, 1, 1, 0), 0);
+        Bench.due("it signs by it", x.judge(0, -1), 0);
     }
 
     /** A key with as much as there is room for, whose PIN was changed so many times: each time it moves, or nearly so. */
     private static PasskeyHouse crowded(int changes) {
-        PasskeyHouse x = house();
+        PasskeyHouse x = Bench.house();
         Bench.lay(x, "a");
         x.page(0, 1);
         for (int i = 0; i < 6; i++) {
@@ -239,15 +274,15 @@ public final class FlashLimitsTest {
 
     @Sentence("FLASH (promise 16): PIN (none at first), TRIES (8 at first), the key's COUNT (0 at first), no credentials")
     static void atFirst() {
-        PasskeyHouse x = house();
+        PasskeyHouse x = Bench.house();
         told(x, "new", 1, 0, 12, 0, 8, 0, 0);
-        powerOver(x);
+        Bench.powerOver(x);
         told(x, "woken", 1, 0, 12, 0, 8, 0, 0);
     }
 
     @Sentence("FLASH (promise 16): TRIES are 8 with each PIN")
     static void triesWithEachPin() {
-        PasskeyHouse x = house();
+        PasskeyHouse x = Bench.house();
         Bench.setPin(x, 0, 0, "1234");
         Bench.due("wrong", Bench.unlock(x, 0, 0, "4321"), 49);
         Bench.due("tries", x.told(0, 9), 7);
@@ -265,13 +300,13 @@ public final class FlashLimitsTest {
         Bench.lay(x, "5678");
         Bench.due("changePin", x.changePin(0, 0, 4), 0);
         Bench.due("tries", x.told(0, 9), 8);
-        powerOver(x);
+        Bench.powerOver(x);
         Bench.due("tries when it woke", x.told(0, 9), 8);
     }
 
     @Sentence("FLASH (promise 17): each credential with a count, 0 at first, then as the latest COUNT behind it for its id")
     static void countsBehind() {
-        PasskeyHouse x = house();
+        PasskeyHouse x = Bench.house();
         int first = Bench.store(x, 0, "a", "1");
         int second = Bench.store(x, 0, "a", "2");
         Bench.due("count", x.credential(0, 0, 2), 0);
@@ -283,7 +318,7 @@ public final class FlashLimitsTest {
         Bench.store(x, 0, "a", "1");
         Bench.due("in its place with 0", x.credential(0, 0, 2), 0);
         Bench.due("sign", Bench.signBy(x, 0, "a", second), 0);
-        powerOver(x);
+        Bench.powerOver(x);
         Bench.due("0 when it woke", x.credential(0, 0, 2), 0);
         Bench.due("the other's", x.credential(0, 1, 2), 1);
         Bench.due("the key's own", x.told(0, 11), 0);
@@ -291,7 +326,7 @@ public final class FlashLimitsTest {
 
     @Sentence("FLASH (promise 17): A CREDENTIAL with the same party and user as one before stands at its place, instead of it")
     static void sameParyAndUser() {
-        PasskeyHouse x = house();
+        PasskeyHouse x = Bench.house();
         int first = Bench.store(x, 0, "a", "1");
         int second = Bench.store(x, 0, "a", "2");
         int third = Bench.store(x, 0, "b", "1");
@@ -301,7 +336,7 @@ public final class FlashLimitsTest {
             Bench.due("at its place", x.credential(0, 0, 0), again);
             Bench.due("the second", x.credential(0, 1, 0), second);
             Bench.due("the third", x.credential(0, 2, 0), third);
-            powerOver(x);
+            Bench.powerOver(x);
         }
         Bench.due("the first is gone", Bench.signBy(x, 0, "a", first), 46);
         Bench.due("the new one is there", Bench.signBy(x, 0, "a", again), 0);
@@ -309,7 +344,7 @@ public final class FlashLimitsTest {
 
     @Sentence("FLASH (promise 17): others stand behind those that there are: another party, another user, a user of other length")
     static void others() {
-        PasskeyHouse x = house();
+        PasskeyHouse x = Bench.house();
         byte[][] users = {Bench.bytes(1), Bench.bytes(0, 1), Bench.bytes(1, 0), Bench.bytes(0, 0, 1)};
         for (int i = 0; i < users.length; i++) {
             Bench.due("MAKE", store(x, "a", users[i]), 0);
@@ -322,7 +357,7 @@ public final class FlashLimitsTest {
             Bench.due("at its place", x.credential(0, i, 0), Bench.answerFour(x, 0, 21));
             Bench.due("five still", x.told(0, 8), 5);
         }
-        powerOver(x);
+        Bench.powerOver(x);
         for (int i = 0; i < users.length; i++) {
             Bench.due("bytes", x.credential(0, i, 3), users[i].length);
         }
@@ -332,7 +367,7 @@ public final class FlashLimitsTest {
 
     @Sentence("FLASH, TO MOVE (promises 12, 16): MASTER alone, when there is no PIN, TRIES are 8 and counts 0")
     static void leastMove() {
-        PasskeyHouse x = house();
+        PasskeyHouse x = Bench.house();
         x.cut(0, 1);
         Bench.due("MAKE", store(x, "a", Bench.bytes("u")), -3);
         x.power(0, true);
@@ -356,7 +391,7 @@ public final class FlashLimitsTest {
 
     @Sentence("FLASH, TO MOVE (promise 16): PIN (if any), TRIES (if not 8)")
     static void moveWithPin() {
-        PasskeyHouse x = house();
+        PasskeyHouse x = Bench.house();
         Bench.setPin(x, 0, 0, "1234");
         int hash = x.terms();
         Bench.lay(x, "a");
@@ -368,7 +403,7 @@ public final class FlashLimitsTest {
         x.power(0, true);
         told(x, "moved", 2, 1, 20, 0, 8, 1, 0);
         Bench.holds("PIN", Bench.isRecord(x, 0, 1, 12, 2, Bench.four(hash)));
-        Bench.holds("no TRIES of 8", Bench.isErased(x, 0, 256 + 20, 512));
+        Bench.holds("no TRIES of 8", Bench.isErased(x, 0, 256 + 20, 256 + 60));
         Bench.due("wrong", Bench.unlock(x, 0, 0, "4321"), 49);
         Bench.lay(x, "1234");
         x.pin(0, 4);
@@ -383,7 +418,7 @@ public final class FlashLimitsTest {
 
     @Sentence("FLASH, TO MOVE (promise 16): TRIES of 0 are written too")
     static void moveWithNoTries() {
-        PasskeyHouse x = house();
+        PasskeyHouse x = Bench.house();
         int id = Bench.store(x, 0, "a", "u");
         Bench.setPin(x, 0, 0, "1234");
         Bench.lay(x, "4321");
@@ -391,7 +426,7 @@ public final class FlashLimitsTest {
         for (int i = 0; i < 8; i++) {
             Bench.holds("wrong", x.unlock(0, 0) > 0);
             if (i % 2 == 1) {
-                powerOver(x);
+                Bench.powerOver(x);
             }
         }
         Bench.due("end", x.told(0, 7), 12 + 17 + 8 + 8 * 5);
@@ -400,13 +435,13 @@ public final class FlashLimitsTest {
         }
         told(x, "moved", 2, 1, 12 + 8 + 5 + 17 + 12 + 12, 1, 0, 1, 0);
         Bench.holds("TRIES 0", Bench.isRecord(x, 0, 1, 20, 3, Bench.bytes(0)));
-        powerOver(x);
+        Bench.powerOver(x);
         Bench.due("tries", x.told(0, 9), 0);
     }
 
     @Sentence("FLASH, TO MOVE (promise 16): the key's COUNT (if not 0)")
     static void moveWithOwnCount() {
-        PasskeyHouse x = house();
+        PasskeyHouse x = Bench.house();
         int id = Bench.wrap(x, 0, "a");
         movedBy(x, 8, 2, 1, 12, 0, 8, 0, 0);
         Bench.due("sign", Bench.signBy(x, 0, "a", id), 0);
@@ -416,7 +451,7 @@ public final class FlashLimitsTest {
 
     @Sentence("FLASH, TO MOVE (promise 16): for each credential CREDENTIAL and its COUNT (if not 0)")
     static void moveWithCredentials() {
-        PasskeyHouse x = house();
+        PasskeyHouse x = Bench.house();
         int first = Bench.store(x, 0, "a", "1");
         int second = Bench.store(x, 0, "a", "22");
         Bench.due("sign", Bench.signBy(x, 0, "a", first), 0);
@@ -432,7 +467,7 @@ public final class FlashLimitsTest {
 
     @Sentence("FLASH, TO MOVE (promise 16): a credential that was replaced is not written, and its COUNT neither")
     static void moveWithoutReplaced() {
-        PasskeyHouse x = house();
+        PasskeyHouse x = Bench.house();
         int first = Bench.store(x, 0, "a", "1");
         Bench.due("sign", Bench.signBy(x, 0, "a", first), 0);
         Bench.store(x, 0, "a", "1");
@@ -443,7 +478,7 @@ public final class FlashLimitsTest {
     static void failingMoves() {
         int whole = 4 + 8 + 17 + 12 + 4;
         for (int acts = 0; acts <= whole; acts++) {
-            PasskeyHouse x = house();
+            PasskeyHouse x = Bench.house();
             int id = Bench.store(x, 0, "a", "1");
             Bench.due("sign", Bench.signBy(x, 0, "a", id), 0);
             x.cut(0, 1);
@@ -461,7 +496,7 @@ public final class FlashLimitsTest {
 
     /** A key with a PIN and a credential for "a" of a user, which signed 17 times: records end at 240 and the user's bytes. */
     private static PasskeyHouse nearlyFull(String user) {
-        PasskeyHouse x = house();
+        PasskeyHouse x = Bench.house();
         int id = Bench.store(x, 0, "a", user);
         Bench.setPin(x, 0, 0, "1234");
         for (int i = 0; i < 17; i++) {
@@ -476,7 +511,7 @@ public final class FlashLimitsTest {
         PasskeyHouse x = nearlyFull("1234");
         Bench.due("sign", Bench.signBy(x, 0, "a", x.credential(0, 0, 0)), 0);
         told(x, "no move", 1, 0, 256, 1, 8, 1, 0);
-        powerOver(x);
+        Bench.powerOver(x);
         told(x, "it wakes so", 1, 0, 256, 1, 8, 1, 0);
         Bench.due("count", x.credential(0, 0, 2), 18);
         Bench.due("the next one", Bench.signBy(x, 0, "a", x.credential(0, 0, 0)), 0);
@@ -509,7 +544,7 @@ public final class FlashLimitsTest {
     @Sentence("FLASH, TO WRITE (promises 9, 16): What it says holds when it is written whole")
     static void writtenWhole() {
         for (int acts = 0; acts < 12; acts++) {
-            PasskeyHouse x = house();
+            PasskeyHouse x = Bench.house();
             int id = Bench.store(x, 0, "a", "1");
             x.cut(0, acts);
             Bench.due("sign with " + acts, Bench.signBy(x, 0, "a", id), -3);
@@ -526,7 +561,7 @@ public final class FlashLimitsTest {
 
     @Sentence("FLASH (promise 12): There is ROOM when 61 + the sum is not above 256: 256 is, 257 is not")
     static void roomTo256() {
-        PasskeyHouse x = house();
+        PasskeyHouse x = Bench.house();
         String eight = "12345678";
         for (String user : new String[] {eight, eight, eight, "u", "u"}) {
             Bench.store(x, 0, "p" + x.told(0, 8), user);
@@ -544,7 +579,7 @@ public final class FlashLimitsTest {
         // 195 = 5 * 36 + 15 = 5 * 35 + 20 = 5 * 34 + 25 = 5 * 33 + 30 = 6 * 32 + 3 = 6 * 29 + 21
         int[] most = {6, 6, 6, 6, 5, 5, 5, 5};
         for (int u = 1; u <= 8; u++) {
-            PasskeyHouse x = house();
+            PasskeyHouse x = Bench.house();
             for (int i = 0; i < most[u - 1]; i++) {
                 Bench.due("MAKE with " + u, store(x, "p" + i, Bench.bytes("12345678".substring(0, u))), 0);
             }
@@ -557,7 +592,7 @@ public final class FlashLimitsTest {
 
     @Sentence("FLASH (promise 12): ROOM is told without the one in whose place it stands")
     static void roomInPlace() {
-        PasskeyHouse x = house();
+        PasskeyHouse x = Bench.house();
         String[] users = {"12345678", "12345678", "12345678", "u", "u", "u"};
         for (int i = 0; i < users.length; i++) {
             Bench.store(x, 0, "p" + i, users[i]);
@@ -583,18 +618,18 @@ public final class FlashLimitsTest {
             Bench.due("FRESH", x.sort(1 + k), 1);
         }
         Bench.holds("all other bytes", Bench.isErased(x, 1, 12, 400));
-        PasskeyHouse y = house();
+        PasskeyHouse y = Bench.house();
         Bench.holds("all other bytes", Bench.isErased(y, 0, 400, 512));
     }
 
     @Sentence("FLASH, WAKES (promises 9, 16): in use is the area with a good header, of two the greater generation")
     static void greaterGeneration() {
-        PasskeyHouse x = house();
+        PasskeyHouse x = Bench.house();
         for (int generation = 2; generation <= 5; generation++) {
             reset(x, generation);
             Bench.due("area", x.told(0, 6), 1 - generation % 2);
             Bench.holds("both are good", Bench.isHeader(x, 0, generation % 2, generation - 1));
-            powerOver(x);
+            Bench.powerOver(x);
             told(x, "it wakes", generation, 1 - generation % 2, 12, 0, 8, 0, 0);
         }
     }
@@ -602,13 +637,13 @@ public final class FlashLimitsTest {
     @Sentence("FLASH, WAKES (promise 9): If a byte from there on is not 255, it moves at once")
     static void movesAtOnce() {
         for (int acts = 1; acts < 17; acts++) {
-            PasskeyHouse x = house();
+            PasskeyHouse x = Bench.house();
             x.cut(0, acts);
             Bench.due("MAKE", store(x, "a", Bench.bytes("u")), -3);
             Bench.due("wakes", x.power(0, true), true);
             told(x, "with " + acts, 2, 1, 12, 0);
             Bench.due("acts", x.told(0, 1), acts + 16);
-            powerOver(x);
+            Bench.powerOver(x);
             told(x, "once", 2, 1, 12, 0);
             Bench.due("acts", x.told(0, 1), acts + 16);
         }
@@ -616,22 +651,22 @@ public final class FlashLimitsTest {
 
     @Sentence("FLASH, WAKES (promise 9): when all bytes from there on are 255, it does not move")
     static void doesNotMove() {
-        PasskeyHouse x = house();
+        PasskeyHouse x = Bench.house();
         x.cut(0, 0);
         Bench.due("MAKE", store(x, "a", Bench.bytes("u")), -3);
         Bench.due("wakes", x.power(0, true), true);
         told(x, "no byte was written", 1, 0, 12, 0);
         Bench.due("acts", x.told(0, 1), 0);
         Bench.due("MAKE", store(x, "a", Bench.bytes("u")), 0);
-        powerOver(x);
+        Bench.powerOver(x);
         told(x, "a record was written", 1, 0, 29, 1);
         Bench.due("acts", x.told(0, 1), 17);
     }
 
     @Sentence("FLASH, WAKES (promise 9): the bytes of the other area are of no matter")
     static void otherArea() {
-        PasskeyHouse x = house();
-        powerOver(x);
+        PasskeyHouse x = Bench.house();
+        Bench.powerOver(x);
         x.press(0);
         x.cut(0, 4 + 5);
         Bench.due("RESET", Bench.send(x, 0, 7), -3);
@@ -643,7 +678,7 @@ public final class FlashLimitsTest {
 
     @Sentence("FLASH, WAKES (promise 9): Then: a new secret to AGREE with, another new one, THE TOKEN")
     static void newSecrets() {
-        PasskeyHouse x = house();
+        PasskeyHouse x = Bench.house();
         Bench.setPin(x, 0, 0, "1234");
         Bench.due("unlock", x.unlock(0, 0), 0);
         Bench.lay(x, Bench.four(1));
@@ -652,7 +687,7 @@ public final class FlashLimitsTest {
         Bench.due("the token passes", Bench.send(x, 0, 1, map), 39);
         Bench.send(x, 0, 6, Bench.map(1, 1, 2, 2));
         int asked = Bench.answerFour(x, 0, 4);
-        powerOver(x);
+        Bench.powerOver(x);
         Bench.due("another token", Bench.send(x, 0, 1, map), 51);
         Bench.send(x, 0, 6, Bench.map(1, 1, 2, 2));
         Bench.holds("another PUBLIC", Bench.answerFour(x, 0, 4) != asked);
@@ -660,7 +695,7 @@ public final class FlashLimitsTest {
 
     @Sentence("FLASH, WAKES (promise 9): no wrong tries SINCE POWER, no list, and no command SINCE POWER")
     static void sincePower() {
-        PasskeyHouse x = house();
+        PasskeyHouse x = Bench.house();
         Bench.store(x, 0, "a", "1");
         Bench.store(x, 0, "a", "2");
         Bench.setPin(x, 0, 0, "1234");
@@ -668,15 +703,15 @@ public final class FlashLimitsTest {
         x.pin(0, 4);
         Bench.due("wrong", x.unlock(0, 0), 49);
         Bench.due("wrong", x.unlock(0, 0), 49);
-        powerOver(x);
+        Bench.powerOver(x);
         Bench.due("wrong, the first since", x.unlock(0, 0), 49);
         Bench.due("wrong, the second", x.unlock(0, 0), 49);
         Bench.due("wrong, the third", x.unlock(0, 0), 52);
         Bench.due("no more", x.unlock(0, 0), 52);
         Bench.due("SIGN", Bench.send(x, 0, 2, Bench.more(Bench.signMap(1, "a"), 5, Bench.map("up", false))), 0);
-        powerOver(x);
+        Bench.powerOver(x);
         Bench.due("no list", Bench.send(x, 0, 8), 48);
-        powerOver(x);
+        Bench.powerOver(x);
         Bench.due("RESET wants a press", Bench.send(x, 0, 7), 39);
         Bench.due("RESET is a command too", Bench.send(x, 0, 7), 48);
     }

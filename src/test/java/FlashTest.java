@@ -6,6 +6,7 @@ public final class FlashTest {
 
     public static void main(String[] args) {
         moving();
+        movingBack();
         movingAll();
         failingInMove();
         failingInCredential();
@@ -23,10 +24,16 @@ public final class FlashTest {
         PasskeyHouse x = new PasskeyHouse();
         x.key();
         id[0] = Bench.wrap(x, 0, "a");
-        for (int i = 0; i < 20; i++) {
-            Bench.due("sign", Bench.signBy(x, 0, "a", id[0]), 0);
-        }
+        Bench.due("sign", Bench.signBy(x, 0, "a", id[0]), 0);
+        again(x, 19);
         return x;
+    }
+
+    /** The message on the tape, which signs, is sent so many times more. */
+    private static void again(PasskeyHouse x, int times) {
+        for (int i = 0; i < times; i++) {
+            Bench.holds("sign", x.command(0, -1) > 1);
+        }
     }
 
     private static void moving() {
@@ -46,14 +53,18 @@ public final class FlashTest {
         Bench.holds("COUNT 21", Bench.isRecord(x, 0, 1, 24, 4, Bench.bytes(Bench.four(0), Bench.four(21))));
         Bench.holds("erased behind", Bench.isErased(x, 0, 256 + 36, 512));
         Bench.holds("the other stays", Bench.isHeader(x, 0, 0, 1));
+    }
+
+    private static void movingBack() {
+        int[] id = new int[1];
+        PasskeyHouse x = nearlyFull(id);
+        again(x, 1);
         x.power(0, false);
         x.power(0, true);
         Bench.due("it wakes so", x.told(0, 6), 1);
         Bench.due("count", x.told(0, 11), 21);
         Bench.due("end", x.told(0, 7), 36);
-        for (int i = 0; i < 18; i++) {
-            Bench.due("sign", Bench.signBy(x, 0, "a", id[0]), 0);
-        }
+        again(x, 18);
         Bench.due("end", x.told(0, 7), 252);
         Bench.due("sign", Bench.signBy(x, 0, "a", id[0]), 0);
         Bench.due("area", x.told(0, 6), 0);
@@ -214,19 +225,14 @@ public final class FlashTest {
     private static void pagesInOrder() {
         for (int acts = 0; acts <= 4; acts++) {
             int[] id = new int[1];
+            PasskeyHouse was = nearlyFull(id);
+            again(was, 1);
             PasskeyHouse x = nearlyFull(id);
-            Bench.due("moves", Bench.signBy(x, 0, "a", id[0]), 0);
-            int[] was = new int[256];
-            for (int i = 0; i < 256; i++) {
-                was[i] = x.flash(0, i);
-            }
-            for (int i = 0; i < 18; i++) {
-                Bench.due("sign", Bench.signBy(x, 0, "a", id[0]), 0);
-            }
+            again(x, 19);
             x.cut(0, acts);
             Bench.due("moves back", Bench.signBy(x, 0, "a", id[0]), -3);
             for (int i = 0; i < 256; i++) {
-                Bench.due("byte " + i + " after " + acts, x.flash(0, i), i < 64 * acts ? 255 : was[i]);
+                Bench.due("byte " + i + " after " + acts, x.flash(0, i), i < 64 * acts ? 255 : was.flash(0, i));
             }
             Bench.due("wakes", x.power(0, true), true);
             Bench.due("in the area that was in use", x.told(0, 6), 1);

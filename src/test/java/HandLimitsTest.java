@@ -1,5 +1,3 @@
-import java.util.function.Supplier;
-
 /** Promises 18 to 24, == HANDS: the boundary cases of what hands have, make and open. */
 public final class HandLimitsTest {
 
@@ -9,15 +7,6 @@ public final class HandLimitsTest {
 
     public static void main(String[] args) {
         Bench.run(HandLimitsTest.class);
-    }
-
-    /** A furnished house with these bytes on the tape. */
-    private static Supplier<PasskeyHouse> taped(Object... parts) {
-        return () -> {
-            PasskeyHouse x = Twins.furnished();
-            Bench.lay(x, parts);
-            return x;
-        };
     }
 
     /** The last term of a sort in a house. */
@@ -319,15 +308,15 @@ public final class HandLimitsTest {
 
     @Sentence("Promise 23: False: n is not 0 .. 12")
     static void pinOfOtherN() {
-        Twins.denied(taped(Bench.text(40)), "pin", x -> x.pin(0, 13), x -> x.pin(0, -1), x -> x.pin(0, 14), x -> x.pin(0, LEAST),
+        Twins.denied(Twins.taped(Bench.text(40)), "pin", x -> x.pin(0, 13), x -> x.pin(0, -1), x -> x.pin(0, 14), x -> x.pin(0, LEAST),
             x -> x.pin(0, MOST), x -> x.pin(3, 13), x -> x.pin(3, -1));
     }
 
     @Sentence("Promise 23: False: or there are not so many")
     static void pinOfNoBytes() {
-        Twins.denied(taped("567"), "pin", x -> x.pin(0, 4), x -> x.pin(0, 12), x -> x.pin(3, 4));
-        Twins.denied(taped(), "pin of an empty tape", x -> x.pin(0, 1), x -> x.pin(3, 4));
-        Bench.due("just so many", taped("567").get().pin(0, 3), true);
+        Twins.denied(Twins.taped("567"), "pin", x -> x.pin(0, 4), x -> x.pin(0, 12), x -> x.pin(3, 4));
+        Twins.denied(Twins.taped(), "pin of an empty tape", x -> x.pin(0, 1), x -> x.pin(3, 4));
+        Bench.due("just so many", Twins.taped("567").get().pin(0, 3), true);
     }
 
     // ---- Promise 24: page
@@ -377,14 +366,14 @@ public final class HandLimitsTest {
 
     @Sentence("Promise 24: False: n is not 0 .. 40")
     static void pageOfOtherN() {
-        Twins.denied(taped(Bench.text(50)), "page", x -> x.page(0, 41), x -> x.page(0, -1), x -> x.page(0, 42), x -> x.page(0, LEAST),
+        Twins.denied(Twins.taped(Bench.text(50)), "page", x -> x.page(0, 41), x -> x.page(0, -1), x -> x.page(0, 42), x -> x.page(0, LEAST),
             x -> x.page(0, MOST), x -> x.page(3, 41), x -> x.page(3, -1));
     }
 
     @Sentence("Promise 24: False: or there are not so many")
     static void pageOfNoBytes() {
-        Twins.denied(taped("a.e"), "page", x -> x.page(0, 4), x -> x.page(0, 40), x -> x.page(3, 4));
-        Twins.denied(taped(), "page of an empty tape", x -> x.page(0, 1), x -> x.page(3, 4));
-        Bench.due("just so many", taped("a.e").get().page(0, 3), true);
+        Twins.denied(Twins.taped("a.e"), "page", x -> x.page(0, 4), x -> x.page(0, 40), x -> x.page(3, 4));
+        Twins.denied(Twins.taped(), "page of an empty tape", x -> x.page(0, 1), x -> x.page(3, 4));
+        Bench.due("just so many", Twins.taped("a.e").get().page(0, 3), true);
     }
 }

@@ -12,12 +12,6 @@ public final class KeyLimitsTest {
         Bench.run(KeyLimitsTest.class);
     }
 
-    private static PasskeyHouse house() {
-        PasskeyHouse x = new PasskeyHouse();
-        x.key();
-        return x;
-    }
-
     /** A furnished house, of which one key is off. */
     private static Supplier<PasskeyHouse> off(int key) {
         return () -> {
@@ -60,7 +54,7 @@ public final class KeyLimitsTest {
 
     @Sentence("Promise 9: Power comes (a key that is off wakes) or goes: whether it is on then")
     static void comesAndGoes() {
-        PasskeyHouse x = house();
+        PasskeyHouse x = Bench.house();
         Bench.due("goes", x.power(0, false), false);
         Bench.due("off", x.told(0, 0), 0);
         Bench.due("goes again", x.power(0, false), false);
@@ -84,7 +78,7 @@ public final class KeyLimitsTest {
 
     @Sentence("Promise 9: whether it is on then: not when power fails while it wakes")
     static void failsWhileWaking() {
-        PasskeyHouse x = house();
+        PasskeyHouse x = Bench.house();
         x.press(0);
         x.cut(0, 3);
         Bench.due("MAKE", Bench.send(x, 0, 1, Bench.more(Bench.makeMap(1, "a", "u"), 7, Bench.map("rk", true))), -3);
@@ -103,12 +97,12 @@ public final class KeyLimitsTest {
             Twins.denied(Twins::furnished, "power of key " + k, x -> x.power(k, true), x -> x.power(k, false));
         }
         Bench.due("key 0 of none", new PasskeyHouse().power(0, true), false);
-        Bench.due("key 1 of one", house().power(1, true), false);
+        Bench.due("key 1 of one", Bench.house().power(1, true), false);
     }
 
     @Sentence("Promise 9: power of one key is not that of others")
     static void powerOfOne() {
-        PasskeyHouse x = house();
+        PasskeyHouse x = Bench.house();
         x.key();
         x.key();
         x.power(1, false);
@@ -121,7 +115,7 @@ public final class KeyLimitsTest {
 
     @Sentence("Promise 10: A press more waits at a key: how many wait. NONE: 9 wait")
     static void ninePresses() {
-        PasskeyHouse x = house();
+        PasskeyHouse x = Bench.house();
         for (int i = 1; i <= 9; i++) {
             Bench.due("press", x.press(0), i);
             Bench.due("waits", x.told(0, 2), i);
@@ -144,12 +138,12 @@ public final class KeyLimitsTest {
         for (int k : NO_KEYS) {
             Twins.refused(Twins::furnished, "press of key " + k, x -> x.press(k));
         }
-        Bench.due("key 1 of one", house().press(1), -1);
+        Bench.due("key 1 of one", Bench.house().press(1), -1);
     }
 
     @Sentence("Promise 10: (They stay without power.)")
     static void pressesStay() {
-        PasskeyHouse x = house();
+        PasskeyHouse x = Bench.house();
         for (int i = 1; i <= 8; i++) {
             x.press(0);
         }
@@ -170,7 +164,7 @@ public final class KeyLimitsTest {
 
     /** A key with a WRAP and a message on the tape that signs by it: 12 acts each time. */
     private static PasskeyHouse signing() {
-        PasskeyHouse x = house();
+        PasskeyHouse x = Bench.house();
         int id = Bench.wrap(x, 0, "a");
         Bench.due("sign", Bench.signBy(x, 0, "a", id), 0);
         return x;
@@ -245,7 +239,7 @@ public final class KeyLimitsTest {
         for (int k : NO_KEYS) {
             Twins.denied(Twins::furnished, "cut of key " + k, x -> x.cut(k, 0), x -> x.cut(k, -1));
         }
-        Bench.due("key 1 of one", house().cut(1, 0), false);
+        Bench.due("key 1 of one", Bench.house().cut(1, 0), false);
     }
 
     @Sentence("Promise 11: a cut is of one key alone")
@@ -261,7 +255,7 @@ public final class KeyLimitsTest {
 
     @Sentence("Promise 12: The first n bytes of the tape (all, if n is NONE) are a message to a key")
     static void firstBytes() {
-        PasskeyHouse x = house();
+        PasskeyHouse x = Bench.house();
         Bench.lay(x, 4, 4);
         Bench.due("n 0: an empty message", x.command(0, 0), 1);
         Bench.due("status", x.answer(0, 0), 3);
@@ -280,7 +274,7 @@ public final class KeyLimitsTest {
 
     @Sentence("Promise 12: the tape stays")
     static void tapeStays() {
-        PasskeyHouse x = house();
+        PasskeyHouse x = Bench.house();
         Bench.lay(x, 4);
         x.command(0, -1);
         Bench.holds("the same", Bench.tapeIs(x, 4));
@@ -291,7 +285,7 @@ public final class KeyLimitsTest {
 
     @Sentence("Promise 12: a message of 400 bytes is taken")
     static void longestMessage() {
-        PasskeyHouse x = house();
+        PasskeyHouse x = Bench.house();
         Bench.lay(x, 6, Bench.hex("a30101020107590186"), new byte[390]);
         Bench.due("all", x.command(0, -1), 4);
         Bench.due("400", x.command(0, 400), 4);
@@ -301,7 +295,7 @@ public final class KeyLimitsTest {
 
     @Sentence("Promise 12: SILENT when it is off")
     static void silentWhenOff() {
-        PasskeyHouse x = house();
+        PasskeyHouse x = Bench.house();
         Bench.lay(x, 4);
         x.power(0, false);
         Bench.due("SILENT", x.command(0, -1), -3);
@@ -330,7 +324,7 @@ public final class KeyLimitsTest {
         for (int k : NO_KEYS) {
             Twins.refused(Twins::furnished, "command of key " + k, x -> x.command(k, -1), x -> x.command(k, 0));
         }
-        Bench.due("key 1 of one", house().command(1, -1), -1);
+        Bench.due("key 1 of one", Bench.house().command(1, -1), -1);
     }
 
     @Sentence("Promise 12: NONE: or there are not so many bytes")
@@ -345,7 +339,7 @@ public final class KeyLimitsTest {
 
     @Sentence("Promise 13: Byte i of the latest answer of a key; NONE when there is none")
     static void answerEnds() {
-        PasskeyHouse x = house();
+        PasskeyHouse x = Bench.house();
         Bench.due("no answer yet", x.answer(0, 0), -1);
         Bench.due("INFO", Bench.send(x, 0, 4), 0);
         Bench.due("the first", x.answer(0, 0), 0);
@@ -364,7 +358,7 @@ public final class KeyLimitsTest {
 
     @Sentence("Promise 13: NONE also when it was SILENT")
     static void answerAfterSilence() {
-        PasskeyHouse x = house();
+        PasskeyHouse x = Bench.house();
         Bench.due("INFO", Bench.send(x, 0, 4), 0);
         x.power(0, false);
         Bench.due("the answer stays without power", x.answer(0, 0), 0);
@@ -378,7 +372,7 @@ public final class KeyLimitsTest {
 
     @Sentence("Promise 13: a message that is refused (NONE) leaves the latest answer")
     static void answerAfterRefusal() {
-        PasskeyHouse x = house();
+        PasskeyHouse x = Bench.house();
         Bench.due("INFO", Bench.send(x, 0, 4), 0);
         Bench.due("refused", x.command(0, 2), -1);
         Bench.due("the answer", x.answer(0, 44), 1);
@@ -388,7 +382,7 @@ public final class KeyLimitsTest {
 
     @Sentence("Promise 14: That answer goes onto the tape, in place of what was there: how many bytes")
     static void taking() {
-        PasskeyHouse x = house();
+        PasskeyHouse x = Bench.house();
         Bench.due("INFO", Bench.send(x, 0, 4), 0);
         Bench.lay(x, Bench.text(400));
         Bench.due("take", x.take(0), 45);
@@ -426,7 +420,7 @@ public final class KeyLimitsTest {
 
     @Sentence("Promise 15: Byte i (0 .. 511) of a key's flash; NONE when there is none")
     static void flashEnds() {
-        PasskeyHouse x = house();
+        PasskeyHouse x = Bench.house();
         Bench.due("byte 0", x.flash(0, 0), 0);
         Bench.due("byte 1", x.flash(0, 1), 1);
         Bench.due("byte 255", x.flash(0, 255), 255);
@@ -445,7 +439,7 @@ public final class KeyLimitsTest {
 
     @Sentence("Promise 15: the last byte of each area is written, and no byte beside")
     static void lastBytes() {
-        PasskeyHouse x = house();
+        PasskeyHouse x = Bench.house();
         int id = Bench.store(x, 0, "a", "1234");
         Bench.setPin(x, 0, 0, "1234");
         Bench.due("sign", Bench.signBy(x, 0, "a", id), 0);
@@ -461,7 +455,7 @@ public final class KeyLimitsTest {
 
     @Sentence("Promise 16: what = 0 whether it is on, 1 acts, 2 presses that wait, 3 that were taken, 4 commands that were answered")
     static void toldWithoutPower() {
-        PasskeyHouse x = house();
+        PasskeyHouse x = Bench.house();
         x.press(0);
         x.press(0);
         x.press(0);
@@ -479,7 +473,7 @@ public final class KeyLimitsTest {
 
     @Sentence("Promise 16: 4 commands that were answered: any message, not those that were SILENT or refused")
     static void answeredCommands() {
-        PasskeyHouse x = house();
+        PasskeyHouse x = Bench.house();
         int want = 0;
         for (int first : new int[] {0, 1, 2, 3, 4, 6, 7, 8, 255}) {
             Bench.send(x, 0, first);
@@ -497,7 +491,7 @@ public final class KeyLimitsTest {
 
     @Sentence("Promise 16: NONE for others")
     static void toldOthers() {
-        PasskeyHouse x = house();
+        PasskeyHouse x = Bench.house();
         for (int what : new int[] {12, 13, 100, -1, -2, LEAST, MOST}) {
             Bench.due("told " + what, x.told(0, what), -1);
         }
@@ -515,7 +509,7 @@ public final class KeyLimitsTest {
 
     @Sentence("Promise 16: NONE when it is off for 5 to 11")
     static void toldWhenOff() {
-        PasskeyHouse x = house();
+        PasskeyHouse x = Bench.house();
         x.power(0, false);
         for (int what = 5; what <= 11; what++) {
             Bench.due("told " + what, x.told(0, what), -1);
@@ -532,7 +526,7 @@ public final class KeyLimitsTest {
 
     @Sentence("Promise 17: what = 3 how many bytes its user has, 4 + j byte j of these. NONE when there is none such")
     static void credentialUsers() {
-        PasskeyHouse x = house();
+        PasskeyHouse x = Bench.house();
         Bench.store(x, 0, "a", "\u0080");
         Bench.store(x, 0, "a", "12345678");
         Bench.due("bytes of the first", x.credential(0, 0, 3), 1);
@@ -548,7 +542,7 @@ public final class KeyLimitsTest {
 
     @Sentence("Promise 17: Of credential i (from 0, by their places). NONE when there is none such")
     static void credentialEnds() {
-        PasskeyHouse x = house();
+        PasskeyHouse x = Bench.house();
         Bench.due("none yet", x.credential(0, 0, 0), -1);
         int first = Bench.store(x, 0, "a", "1");
         int second = Bench.store(x, 0, "a", "2");
@@ -568,7 +562,7 @@ public final class KeyLimitsTest {
 
     @Sentence("Promise 17: of a key that is on")
     static void credentialOfOneThatIsOff() {
-        PasskeyHouse x = house();
+        PasskeyHouse x = Bench.house();
         int id = Bench.store(x, 0, "a", "1");
         x.power(0, false);
         for (int what = 0; what <= 4; what++) {

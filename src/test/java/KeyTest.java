@@ -34,7 +34,7 @@ public final class KeyTest {
         Bench.due("told of key -1", x.told(-1, 0), -1);
         Bench.holds("a header", Bench.isHeader(x, 1, 0, 1));
         Bench.holds("MASTER", Bench.isRecord(x, 1, 0, 4, 1, Bench.four(2)));
-        Bench.holds("all else erased", Bench.isErased(x, 1, 12, 512));
+        Bench.holds("all else erased", Bench.isErased(x, 1, 12, 300));
         Bench.due("flash 512", x.flash(1, 512), -1);
         Bench.due("flash -1", x.flash(1, -1), -1);
         Bench.due("flash of no key", x.flash(3, 0), -1);

@@ -11,12 +11,6 @@ public final class MakeLimitsTest {
         Bench.run(MakeLimitsTest.class);
     }
 
-    private static PasskeyHouse house() {
-        PasskeyHouse x = new PasskeyHouse();
-        x.key();
-        return x;
-    }
-
     /** A status other than 0: so many presses are taken by it, no term is made, nothing is written. */
     private static void fault(PasskeyHouse x, String what, Bench.Pairs map, int want, int presses) {
         int terms = x.terms();
@@ -39,7 +33,7 @@ public final class MakeLimitsTest {
 
     @Sentence("MAKE (promise 12): an entry of 5 that is of this key with that name: 39 without a press; else one is taken: 25")
     static void excluded() {
-        PasskeyHouse x = house();
+        PasskeyHouse x = Bench.house();
         int stored = Bench.store(x, 0, "a.ex", "u");
         int wrapped = Bench.wrap(x, 0, "a.ex");
         for (int id : new int[] {stored, wrapped}) {
@@ -54,7 +48,7 @@ public final class MakeLimitsTest {
 
     @Sentence("MAKE (promise 12): an entry of 5: the last one counts as the first does")
     static void excludedLast() {
-        PasskeyHouse x = house();
+        PasskeyHouse x = Bench.house();
         int id = Bench.store(x, 0, "a.ex", "u");
         Object none = Bench.entry(id + 100);
         x.press(0);
@@ -67,7 +61,7 @@ public final class MakeLimitsTest {
 
     @Sentence("MAKE (promise 12): an entry of 5 with another type than \"public-key\" does not count")
     static void excludedOfOtherType() {
-        PasskeyHouse x = house();
+        PasskeyHouse x = Bench.house();
         int id = Bench.store(x, 0, "a.ex", "u");
         x.press(0);
         for (String type : new String[] {"", "public-ke", "public-keys", "Public-key", "public-kex"}) {
@@ -78,7 +72,7 @@ public final class MakeLimitsTest {
 
     @Sentence("IS OF A KEY (promise 12): An id of four bytes")
     static void idOfFourBytes() {
-        PasskeyHouse x = house();
+        PasskeyHouse x = Bench.house();
         int id = Bench.store(x, 0, "a.ex", "u");
         byte[] four = Bench.four(id);
         byte[][] others = {Bench.bytes(), Bench.bytes(id), Bench.bytes(0, 0, id), Bench.bytes(four, 0), Bench.bytes(0, four),
@@ -93,7 +87,7 @@ public final class MakeLimitsTest {
 
     @Sentence("IS OF A KEY (promise 12): when a CREDENTIAL of it has it and the HASH of the name")
     static void ofACredential() {
-        PasskeyHouse x = house();
+        PasskeyHouse x = Bench.house();
         x.key();
         int id = Bench.store(x, 0, "a.ex", "u");
         x.press(0);
@@ -111,7 +105,7 @@ public final class MakeLimitsTest {
 
     @Sentence("IS OF A KEY (promise 12): or it is the WRAP of its master, that HASH, and some secret")
     static void ofAWrap() {
-        PasskeyHouse x = house();
+        PasskeyHouse x = Bench.house();
         x.key();
         int id = Bench.wrap(x, 0, "a.ex");
         x.press(0);
@@ -137,7 +131,7 @@ public final class MakeLimitsTest {
 
     @Sentence("MAKE (promise 12): 25 goes before 38, 43, 51 and 54")
     static void excludedFirst() {
-        PasskeyHouse x = house();
+        PasskeyHouse x = Bench.house();
         int id = Bench.store(x, 0, "a.ex", "u");
         Bench.setPin(x, 0, 0, "1234");
         for (int i = 0; i < 5; i++) {
@@ -155,7 +149,7 @@ public final class MakeLimitsTest {
 
     @Sentence("MAKE (promise 12): No entry of 4 with type \"public-key\" and alg -7: 38")
     static void algorithms() {
-        PasskeyHouse x = house();
+        PasskeyHouse x = Bench.house();
         x.press(0);
         fault(x, "no entry", Bench.with(GOOD, 4, List.of()), 38, 0);
         for (int alg : new int[] {-8, -6, 6, 7, 0, -1, -263, Integer.MAX_VALUE, Integer.MIN_VALUE}) {
@@ -174,7 +168,7 @@ public final class MakeLimitsTest {
 
     @Sentence("MAKE (promise 12): 38 goes before 43, 51, 53, 54 and 39")
     static void algorithmsFirst() {
-        PasskeyHouse x = house();
+        PasskeyHouse x = Bench.house();
         Bench.Pairs no = Bench.with(GOOD, 4, List.of());
         fault(x, "before 39", no, 38, 0);
         x.press(0);
@@ -187,7 +181,7 @@ public final class MakeLimitsTest {
 
     @Sentence("MAKE (promise 12): uv true: 43, before the PIN test, 54 and 39")
     static void userVerification() {
-        PasskeyHouse x = house();
+        PasskeyHouse x = Bench.house();
         Bench.Pairs uv = Bench.more(GOOD, 7, Bench.map("uv", true));
         fault(x, "before 39", uv, 43, 0);
         x.press(0);
@@ -196,14 +190,14 @@ public final class MakeLimitsTest {
         fault(x, "with rk", Bench.more(GOOD, 7, Bench.map("rk", true, "uv", true)), 43, 0);
         Bench.setPin(x, 0, 0, "1234");
         fault(x, "before 54", uv, 43, 0);
-        PasskeyHouse y = house();
+        PasskeyHouse y = Bench.house();
         y.press(0);
         Bench.due("uv false", Bench.send(y, 0, 1, Bench.more(GOOD, 7, Bench.map("uv", false))), 0);
     }
 
     @Sentence("MAKE (promise 12): Without 8: 54 if there is a PIN, with a press or without")
     static void pinWanted() {
-        PasskeyHouse x = house();
+        PasskeyHouse x = Bench.house();
         x.press(0);
         Bench.due("no PIN", Bench.send(x, 0, 1, GOOD), 0);
         Bench.setPin(x, 0, 0, "1234");
@@ -216,7 +210,7 @@ public final class MakeLimitsTest {
 
     @Sentence("MAKE (promise 12): 39 without a press; one is taken")
     static void press() {
-        PasskeyHouse x = house();
+        PasskeyHouse x = Bench.house();
         fault(x, "no press", GOOD, 39, 0);
         fault(x, "no press, rk", KEPT, 39, 0);
         x.press(0);
@@ -233,7 +227,7 @@ public final class MakeLimitsTest {
 
     @Sentence("MAKE (promise 12): rk true, and no room: 40, behind the press; without rk there is none needed")
     static void noRoom() {
-        PasskeyHouse x = house();
+        PasskeyHouse x = Bench.house();
         for (int i = 0; i < 6; i++) {
             Bench.store(x, 0, "p" + i, "user");
         }
@@ -254,7 +248,7 @@ public final class MakeLimitsTest {
 
     /** A key with a PIN, and MARK by its token of a hash; marks[0] is of hash 9, marks[1] of hash 8. */
     private static PasskeyHouse withToken(int[] marks) {
-        PasskeyHouse x = house();
+        PasskeyHouse x = Bench.house();
         Bench.setPin(x, 0, 0, "1234");
         Bench.due("unlock", x.unlock(0, 0), 0);
         for (int i = 0; i < marks.length; i++) {
@@ -266,7 +260,7 @@ public final class MakeLimitsTest {
 
     @Sentence("THE PIN TEST (promise 12): if b is empty: 39 without a press; one is taken, and then 49 if there is a PIN, else 53")
     static void emptyProof() {
-        PasskeyHouse x = house();
+        PasskeyHouse x = Bench.house();
         fault(x, "no press, no PIN", Bench.more(GOOD, 8, Bench.bytes()), 39, 0);
         x.press(0);
         fault(x, "no PIN", Bench.more(GOOD, 8, Bench.bytes()), 53, 1);
@@ -295,7 +289,7 @@ public final class MakeLimitsTest {
 
     @Sentence("THE PIN TEST (promise 12): 51 of the number goes before No PIN: 53")
     static void proofWithoutPin() {
-        PasskeyHouse x = house();
+        PasskeyHouse x = Bench.house();
         x.press(0);
         fault(x, "no number", Bench.more(GOOD, 8, Bench.four(1)), 51, 0);
         fault(x, "number 2", Bench.more(GOOD, 8, Bench.four(1), 9, 2), 51, 0);
@@ -345,7 +339,7 @@ public final class MakeLimitsTest {
     @Sentence("MAKE (promise 12): flags 65 (69 if the PIN test was passed)")
     static void flags() {
         int[] marks = new int[1];
-        PasskeyHouse x = house();
+        PasskeyHouse x = Bench.house();
         x.press(0);
         Bench.due("without", Bench.send(x, 0, 1, GOOD), 0);
         Bench.due("flags", x.answer(0, 16), 65);
@@ -357,7 +351,7 @@ public final class MakeLimitsTest {
 
     @Sentence("MAKE (promise 12): the count (4 bytes: 0 with rk, else the key's own)")
     static void counts() {
-        PasskeyHouse x = house();
+        PasskeyHouse x = Bench.house();
         int id = Bench.wrap(x, 0, "a.ex");
         Bench.due("the key's own at first", Bench.answerFour(x, 0, 17), 0);
         Bench.due("sign", Bench.signBy(x, 0, "a.ex", id), 0);
@@ -376,7 +370,7 @@ public final class MakeLimitsTest {
     @Sentence("MAKE (promise 12): Terms are made in this order: HASH of the name, the id, and, when all is written, PUBLIC, SIGN")
     static void termsWhenWritten() {
         for (int acts : new int[] {0, 19, 20}) {
-            PasskeyHouse x = house();
+            PasskeyHouse x = Bench.house();
             x.press(0);
             x.cut(0, acts);
             Bench.due("MAKE", Bench.send(x, 0, 1, KEPT), acts < 20 ? -3 : 0);
@@ -386,7 +380,7 @@ public final class MakeLimitsTest {
                 Bench.due("sort of " + t, x.sort(t), want[t - 1]);
             }
         }
-        PasskeyHouse y = house();
+        PasskeyHouse y = Bench.house();
         y.press(0);
         y.cut(0, 0);
         Bench.due("without rk nothing is written", Bench.send(y, 0, 1, GOOD), 0);
@@ -400,7 +394,7 @@ public final class MakeLimitsTest {
     static void longestNames() {
         for (int n : new int[] {1, 24}) {
             for (int u : new int[] {1, 8}) {
-                PasskeyHouse x = house();
+                PasskeyHouse x = Bench.house();
                 x.press(0);
                 Bench.Pairs map = Bench.more(Bench.makeMap(9, Bench.text(n), "12345678".substring(0, u)), 7, Bench.map("rk", true));
                 Bench.due("MAKE", Bench.send(x, 0, 1, map), 0);

@@ -20,12 +20,6 @@ public final class MakeTest {
         Bench.end();
     }
 
-    private static PasskeyHouse house() {
-        PasskeyHouse x = new PasskeyHouse();
-        x.key();
-        return x;
-    }
-
     /** Without a press a message that has no fault is answered by 39, so nothing is made. */
     private static void status(PasskeyHouse x, String what, Bench.Pairs map, int want) {
         int terms = x.terms();
@@ -35,7 +29,7 @@ public final class MakeTest {
     }
 
     private static void sorts() {
-        PasskeyHouse x = house();
+        PasskeyHouse x = Bench.house();
         status(x, "good", GOOD, 39);
         status(x, "hash a text", Bench.with(GOOD, 1, "abcd"), 17);
         status(x, "party a text", Bench.with(GOOD, 2, "a.ex"), 17);
@@ -66,7 +60,7 @@ public final class MakeTest {
     }
 
     private static void missing() {
-        PasskeyHouse x = house();
+        PasskeyHouse x = Bench.house();
         for (int i = 1; i <= 4; i++) {
             status(x, "without " + i, Bench.with(GOOD, i, null), 20);
         }
@@ -86,7 +80,7 @@ public final class MakeTest {
     }
 
     private static void lengths() {
-        PasskeyHouse x = house();
+        PasskeyHouse x = Bench.house();
         status(x, "hash of 3", Bench.with(GOOD, 1, Bench.bytes("abc")), 2);
         status(x, "hash of 5", Bench.with(GOOD, 1, Bench.bytes("abcde")), 2);
         status(x, "hash of 0", Bench.with(GOOD, 1, Bench.bytes()), 2);
@@ -100,7 +94,7 @@ public final class MakeTest {
     }
 
     private static void order() {
-        PasskeyHouse x = house();
+        PasskeyHouse x = Bench.house();
         Bench.Pairs shortHash = Bench.with(GOOD, 1, Bench.bytes("abc"));
         status(x, "17 before 20 and 2", Bench.more(Bench.with(shortHash, 2, null), 9, "x"), 17);
         status(x, "20 before 2", Bench.with(shortHash, 4, null), 20);
@@ -115,7 +109,7 @@ public final class MakeTest {
     }
 
     private static void excluded() {
-        PasskeyHouse x = house();
+        PasskeyHouse x = Bench.house();
         int stored = Bench.store(x, 0, "a.ex", "u");
         int wrapped = Bench.wrap(x, 0, "a.ex");
         int other = Bench.store(x, 0, "b.ex", "u");
@@ -144,7 +138,7 @@ public final class MakeTest {
     }
 
     private static void algorithms() {
-        PasskeyHouse x = house();
+        PasskeyHouse x = Bench.house();
         Object good = Bench.map("alg", -7, "type", "public-key");
         status(x, "none", Bench.with(GOOD, 4, List.of()), 38);
         status(x, "-8", Bench.with(GOOD, 4, List.of(Bench.map("alg", -8, "type", "public-key"))), 38);
@@ -159,7 +153,7 @@ public final class MakeTest {
     }
 
     private static void options() {
-        PasskeyHouse x = house();
+        PasskeyHouse x = Bench.house();
         status(x, "uv true", Bench.more(GOOD, 7, Bench.map("uv", true)), 43);
         status(x, "uv false", Bench.more(GOOD, 7, Bench.map("uv", false)), 39);
         status(x, "rk true, uv true", Bench.more(GOOD, 7, Bench.map("rk", true, "uv", true)), 43);
@@ -169,7 +163,7 @@ public final class MakeTest {
     }
 
     private static void pinTest() {
-        PasskeyHouse x = house();
+        PasskeyHouse x = Bench.house();
         byte[] none = Bench.bytes();
         status(x, "empty, no press", Bench.more(GOOD, 8, none), 39);
         x.press(0);
@@ -207,7 +201,7 @@ public final class MakeTest {
     }
 
     private static void wrapped() {
-        PasskeyHouse x = house();
+        PasskeyHouse x = Bench.house();
         x.press(0);
         x.press(0);
         Bench.due("MAKE", Bench.send(x, 0, 1, GOOD), 0);
@@ -232,7 +226,7 @@ public final class MakeTest {
     }
 
     private static void stored() {
-        PasskeyHouse x = house();
+        PasskeyHouse x = Bench.house();
         x.press(0);
         Bench.Pairs map = Bench.more(GOOD, 7, Bench.map("rk", true));
         Bench.due("MAKE", Bench.send(x, 0, 1, map), 0);
@@ -262,7 +256,7 @@ public final class MakeTest {
     }
 
     private static void room() {
-        PasskeyHouse x = house();
+        PasskeyHouse x = Bench.house();
         String eight = "12345678";
         Bench.store(x, 0, "a", eight);
         Bench.store(x, 0, "b", eight);

@@ -29,15 +29,9 @@ public final class MessageLimitsTest {
         Bench.run(MessageLimitsTest.class);
     }
 
-    private static PasskeyHouse house() {
-        PasskeyHouse x = new PasskeyHouse();
-        x.key();
-        return x;
-    }
-
     /** The status of a message to a new key with a press that waits; a fault of form takes no press and makes no term. */
     private static int statusOf(Object... message) {
-        PasskeyHouse x = house();
+        PasskeyHouse x = Bench.house();
         x.press(0);
         int terms = x.terms();
         int status = Bench.send(x, 0, message);
@@ -301,7 +295,7 @@ public final class MessageLimitsTest {
         Bench.due("before 53", statusOf(1, Bench.more(shortHash, 8, Bench.bytes())), 2);
         Bench.due("SIGN, before 43", statusOf(2, Bench.map(1, "", 2, Bench.four(1), 5, Bench.map("uv", true))), 2);
         Bench.due("SIGN, before 46", statusOf(2, Bench.map(1, "", 2, Bench.four(1))), 2);
-        PasskeyHouse x = house();
+        PasskeyHouse x = Bench.house();
         int id = Bench.store(x, 0, "a", "u");
         x.press(0);
         Bench.due("before 25", Bench.send(x, 0, 1, Bench.more(Bench.with(Bench.makeMap(1, "a", "u"), 3, Bench.map("id", Bench.bytes())),
@@ -326,6 +320,20 @@ public final class MessageLimitsTest {
 
     private static Object[] more(Bench.Pairs map, Object... parts) {
         return Bench.more(map, parts).parts();
+    }
+
+    @Sentence("Members with other keys are passed over (promise 12): a key behind a map is none of that map's")
+    static void behindAMap() {
+        PasskeyHouse x = Bench.house();
+        x.press(0);
+        Bench.due("MAKE", Bench.send(x, 0, 1, Bench.more(MAKE, 7, Bench.map(), "rk", true, "uv", true)), 0);
+        Bench.due("nothing is stored", x.told(0, 8), 0);
+        x.press(0);
+        Bench.due("MAKE", Bench.send(x, 0, 1, Bench.more(MAKE, 7, Bench.map("aa", 1), "rk", 1, "uv", 1)), 0);
+        Bench.store(x, 0, "a.ex", "user");
+        Bench.due("SIGN", Bench.send(x, 0, 2, Bench.more(SIGN, 5, Bench.map(), "up", false, "uv", true)), 39);
+        Bench.due("before a map", statusOf(1, Bench.with(Bench.with(MAKE, 2, Bench.map()), 3, Bench.map("id", "a.ex"))), 17);
+        Bench.due("in the next entry", statusOf(2, Bench.more(SIGN, 3, List.of(Bench.map("type", "x"), ENTRY))), 20);
     }
 
     @Sentence("Members with other keys are passed over (promise 12): in maps within, too")

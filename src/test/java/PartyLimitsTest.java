@@ -14,15 +14,6 @@ public final class PartyLimitsTest {
         Bench.run(PartyLimitsTest.class);
     }
 
-    /** A furnished house with these bytes on the tape. */
-    private static Supplier<PasskeyHouse> taped(Object... parts) {
-        return () -> {
-            PasskeyHouse x = Twins.furnished();
-            Bench.lay(x, parts);
-            return x;
-        };
-    }
-
     /** A party whose origin and name are "a.ex", and a hand with a secret, which signs what it will. */
     private static PasskeyHouse house() {
         PasskeyHouse x = new PasskeyHouse();
@@ -129,7 +120,7 @@ public final class PartyLimitsTest {
     @Sentence("Promise 30: NONE: n is not 1 .. 40")
     static void otherN() {
         String origin = "x".repeat(16) + "." + Bench.text(24);
-        Twins.refused(taped(origin, Bench.text(24)), "n 41", x -> x.party(41, 24), x -> x.party(0, 1), x -> x.party(-1, 1),
+        Twins.refused(Twins.taped(origin, Bench.text(24)), "n 41", x -> x.party(41, 24), x -> x.party(0, 1), x -> x.party(-1, 1),
             x -> x.party(LEAST, 1), x -> x.party(MOST, 1));
         PasskeyHouse x = new PasskeyHouse();
         Bench.lay(x, origin.substring(1), Bench.text(24));
@@ -140,8 +131,9 @@ public final class PartyLimitsTest {
 
     @Sentence("Promise 30: NONE: m not 1 .. 24")
     static void otherM() {
-        Twins.refused(taped(Bench.text(25), Bench.text(25)), "m 25", x -> x.party(25, 25), x -> x.party(1, 0), x -> x.party(1, -1),
+        Twins.refused(Twins.taped(Bench.text(25), Bench.text(25)), "m 25", x -> x.party(25, 25), x -> x.party(1, 0), x -> x.party(1, -1),
             x -> x.party(1, LEAST), x -> x.party(1, MOST), x -> x.party(40, MOST));
+        Twins.refused(Twins.taped("a.a."), "no name behind a point", x -> x.party(2, 0));
         PasskeyHouse x = new PasskeyHouse();
         Bench.lay(x, Bench.text(24), Bench.text(24));
         Bench.due("m 24", x.party(24, 24), 0);
@@ -150,9 +142,9 @@ public final class PartyLimitsTest {
 
     @Sentence("Promise 30: NONE: there are not so many")
     static void notSoMany() {
-        Twins.refused(taped("a.exa.e"), "seven bytes", x -> x.party(4, 4));
-        Twins.refused(taped("a"), "one byte", x -> x.party(1, 1));
-        Twins.refused(taped(), "no bytes", x -> x.party(1, 1));
+        Twins.refused(Twins.taped("a.exa.e"), "seven bytes", x -> x.party(4, 4));
+        Twins.refused(Twins.taped("a"), "one byte", x -> x.party(1, 1));
+        Twins.refused(Twins.taped(), "no bytes", x -> x.party(1, 1));
         PasskeyHouse x = new PasskeyHouse();
         Bench.lay(x, "a.exa.ex");
         Bench.due("just so many", x.party(4, 4), 0);
@@ -163,7 +155,7 @@ public final class PartyLimitsTest {
         String[][] wrong = {{"a.ex", "b.ex"}, {"a.ex", "x"}, {"a.ex", ".ex"}, {"ba.ex", "a.ex"}, {"a.ex", "b.a.ex"}, {"a.", "a"},
             {"a-ex", "ex"}};
         for (String[] w : wrong) {
-            Twins.refused(taped(w[0], w[1]), w[1] + " for " + w[0], x -> x.party(w[0].length(), w[1].length()));
+            Twins.refused(Twins.taped(w[0], w[1]), w[1] + " for " + w[0], x -> x.party(w[0].length(), w[1].length()));
         }
         String[][] right = {{"a.ex", "a.ex"}, {"a.ex", "ex"}, {".ex", "ex"}, {"..", "."}, {".", "."}, {"a", "a"}};
         for (String[] r : right) {
@@ -380,6 +372,28 @@ public final class PartyLimitsTest {
                 Bench.due("offer " + i, f.judged(x), i == place ? 2 : 3);
             }
             Bench.due("none is left", x.account(0, -1, 1), 0);
+        }
+    }
+
+    @Sentence("JUDGES (promises 31, 32): a new offer stands beside those that stayed when one was gone")
+    static void offerInPlaceOfOne() {
+        for (int place = 0; place < 3; place++) {
+            PasskeyHouse x = house();
+            int[] all = new int[4];
+            for (int i = 0; i < 3; i++) {
+                all[i] = x.offer(0, 7, 1, false, false);
+            }
+            Forged f = new Forged();
+            f.origin = "b.ex";
+            x.own(SIGNER);
+            f.challenge = all[place];
+            Bench.due("one is gone", f.judged(x), 3);
+            all[3] = x.offer(0, 7, 1, false, false);
+            Bench.due("three", x.account(0, -1, 1), 3);
+            for (int i = 3; i >= 0; i--) {
+                f.challenge = all[i];
+                Bench.due("offer " + i, f.judged(x), i == place ? 2 : 3);
+            }
         }
     }
 
@@ -659,9 +673,80 @@ public final class PartyLimitsTest {
         x.withdraw(0);
         f.challenge = x.offer(0, 0x4207, 1, true, false);
         Bench.due("higher bytes of w do not count", f.judged(x), 0);
+        for (int m = 1; m <= 7; m++) {
+            for (long above : new long[] {1L << 8 * m, -1L << 8 * m, 1L << 63}) {
+                userOf(m, 0x0102030405060708L & (1L << 8 * m) - 1, above);
+            }
+        }
         PasskeyHouse y = house();
         y.own(SIGNER);
         Bench.due("no account at all", forGet(y, 7, false).judged(y), 11);
+    }
+
+    /** An account of a user of m bytes; then an offer to the same bytes with others above them. */
+    private static void userOf(int m, long user, long above) {
+        PasskeyHouse x = house();
+        Forged f = new Forged();
+        f.publicTerm = x.own(SIGNER);
+        f.challenge = x.offer(0, user, m, false, false);
+        Bench.due("an account of " + m, f.judged(x), 0);
+        Forged g = forGet(x, 7, false);
+        x.withdraw(0);
+        g.challenge = x.offer(0, user | above, m, true, false);
+        Bench.due("bytes above " + m, g.judged(x), 0);
+        g.challenge = x.offer(0, user ^ 1, m, true, false);
+        g.count = 2;
+        Bench.due("another byte of " + m, g.judged(x), 11);
+    }
+
+    @Sentence("JUDGES (promises 28, 29, 32): what a key signs by a WRAP and by a CREDENTIAL is taken, also when it woke and moved")
+    static void signedByKeys() {
+        for (int how = 0; how <= 1; how++) {
+            PasskeyHouse x = house();
+            x.key();
+            Bench.lay(x, "a.ex");
+            x.page(0, 4);
+            x.offer(0, 7, 1, false, false);
+            x.press(0);
+            Bench.due("create", x.create(0, 0, 0, 0, 7, 1, 4, how), 0);
+            Bench.due("judge", x.judge(0, -1), 0);
+            for (int round = 0; round < 3; round++) {
+                x.offer(0, 7, 1, true, false);
+                x.press(0);
+                Bench.lay(x, "a.ex");
+                Bench.due("get", x.get(0, 0, 0, 0, 7, 1, 4, 0), 0);
+                Bench.due("judge", x.judge(0, -1), 0);
+                x.power(0, false);
+                x.power(0, true);
+                Bench.lay(x, "a.ex");
+                x.cut(0, 1);
+                Bench.due("power fails", x.get(0, 0, 5, 0, 7, 1, 4, 1), -3);
+                Bench.due("it moves", x.power(0, true), true);
+            }
+            Bench.due("logins", x.account(0, 0, 3), 3);
+        }
+    }
+
+    @Sentence("JUDGES (promises 29, 32): what NEXT signs is of the hash that SIGN had, and no other")
+    static void signedByNext() {
+        for (int other = 0; other <= 1; other++) {
+            PasskeyHouse x = house();
+            x.key();
+            Bench.lay(x, "a.ex");
+            x.page(0, 4);
+            x.offer(0, 7, 1, false, false);
+            x.press(0);
+            Bench.due("create", x.create(0, 0, 0, 0, 7, 1, 4, 1), 0);
+            Bench.due("judge", x.judge(0, -1), 0);
+            Bench.store(x, 0, "a.ex", "other");
+            int asked = x.offer(0, 7, 1, true, false);
+            x.press(0);
+            Bench.lay(x, "a.ex");
+            Bench.due("get", x.get(0, 0, asked + other, -1, 7, 1, 4, 0), 0);
+            Bench.lay(x, "a.ex");
+            Bench.due("next", x.get(0, 0, asked, -1, 7, 1, 4, 4), 0);
+            Bench.due("judge", x.judge(0, -1), other == 0 ? 0 : 8);
+        }
     }
 
     @Sentence("JUDGES get (promise 32): 8 not SIGN by its secret of DATA and HASH of the client data")

@@ -7,24 +7,13 @@ public final class PinLimitsTest {
         Bench.run(PinLimitsTest.class);
     }
 
-    private static PasskeyHouse house() {
-        PasskeyHouse x = new PasskeyHouse();
-        x.key();
-        return x;
-    }
-
     /** A key whose PIN is "1234", and a hand that types another one. */
     private static PasskeyHouse withPin() {
-        PasskeyHouse x = house();
+        PasskeyHouse x = Bench.house();
         Bench.due("set", Bench.send(x, 0, 6, set(x, meet(x), "1234")), 0);
         Bench.lay(x, "4321");
         x.pin(1, 4);
         return x;
-    }
-
-    private static void powerOver(PasskeyHouse x) {
-        x.power(0, false);
-        Bench.due("comes", x.power(0, true), true);
     }
 
     /** A status other than 0 by which nothing is written and no term is made. */
@@ -76,7 +65,7 @@ public final class PinLimitsTest {
 
     @Sentence("PIN (promise 12): 1 is not 1, or 2 not 1 .. 5: 2")
     static void steps() {
-        PasskeyHouse x = house();
+        PasskeyHouse x = Bench.house();
         for (int v : new int[] {0, 2, 3, 24, 256, 65536, Integer.MAX_VALUE}) {
             fault(x, "1 is " + v, Bench.map(1, v, 2, 1), 2);
         }
@@ -93,11 +82,11 @@ public final class PinLimitsTest {
 
     @Sentence("PIN (promise 12): members 3, and 4 and 5 (for 3, 4), and 6 (for 4, 5) must be there (20)")
     static void members() {
-        PasskeyHouse x = house();
-        byte[] pub = Bench.four(x.own(HAND));
         byte[] some = Bench.four(1);
         int[] whole = {51, 53, 53};
         for (int step = 3; step <= 5; step++) {
+            PasskeyHouse x = Bench.house();
+            byte[] pub = Bench.four(x.own(HAND));
             for (int there = 0; there < 16; there++) {
                 Bench.Pairs map = Bench.map(1, 1, 2, step);
                 for (int i = 3; i <= 6; i++) {
@@ -107,13 +96,14 @@ public final class PinLimitsTest {
                 fault(x, step + " with " + there, map, (there & wanted) == wanted ? whole[step - 3] : 20);
             }
         }
-        Bench.due("1 wants none", Bench.send(x, 0, 6, Bench.map(1, 1, 2, 1, 5, some)), 0);
-        Bench.due("2 wants none", Bench.send(x, 0, 6, Bench.map(1, 1, 2, 2, 6, some)), 0);
+        PasskeyHouse y = Bench.house();
+        Bench.due("1 wants none", Bench.send(y, 0, 6, Bench.map(1, 1, 2, 1, 5, some)), 0);
+        Bench.due("2 wants none", Bench.send(y, 0, 6, Bench.map(1, 1, 2, 2, 6, some)), 0);
     }
 
     @Sentence("PIN (promise 12): 3 is a PUBLIC (else 2): before 51, 53, 50, behind 20")
     static void publics() {
-        PasskeyHouse x = house();
+        PasskeyHouse x = Bench.house();
         int own = x.own(HAND);
         int hash = x.seal(HAND, 0, 0);
         byte[] some = Bench.four(1);
@@ -127,6 +117,12 @@ public final class PinLimitsTest {
         }
         fault(x, "a PUBLIC, for 3", Bench.map(1, 1, 2, 3, 3, Bench.four(own), 4, some, 5, some), 51);
         fault(x, "a PUBLIC, for 5", Bench.map(1, 1, 2, 5, 3, Bench.four(own), 6, some), 53);
+        PasskeyHouse z = new PasskeyHouse();
+        Bench.due("term 1 is a PUBLIC", z.own(HAND), 1);
+        z.key();
+        for (byte[] three : new byte[][] {Bench.bytes(), Bench.bytes(1), Bench.bytes(0, 0, 1), Bench.bytes(Bench.four(1), 0)}) {
+            fault(z, "of " + three.length + " bytes", Bench.map(1, 1, 2, 3, 3, three, 4, some, 5, some), 2);
+        }
         PasskeyHouse y = withPin();
         fault(y, "2 before 51, for 3", Bench.map(1, 1, 2, 3, 3, some, 4, some, 5, some), 2);
         fault(y, "2 before a TRY", Bench.map(1, 1, 2, 5, 3, some, 6, some), 2);
@@ -151,14 +147,14 @@ public final class PinLimitsTest {
 
     @Sentence("PIN 1 (promise 12): answer 3 how many TRIES are left, 8 to 0")
     static void triesTold() {
-        PasskeyHouse x = house();
+        PasskeyHouse x = Bench.house();
         Bench.due("ask", Bench.send(x, 0, 6, Bench.map(1, 1, 2, 1)), 0);
         Bench.holds("8 without a PIN", Bench.answers(x, 0, 0, Bench.map(3, 8)));
         x = withPin();
         for (int left = 8; left >= 0; left--) {
             Bench.due("ask", Bench.send(x, 0, 6, Bench.map(1, 1, 2, 1)), 0);
             Bench.holds(left + " are left", Bench.answers(x, 0, 0, Bench.map(3, left)));
-            powerOver(x);
+            Bench.powerOver(x);
             x.unlock(1, 0);
         }
     }
@@ -169,13 +165,15 @@ public final class PinLimitsTest {
         int first = asked(x);
         int terms = x.terms();
         Bench.due("the same", asked(x), first);
+        Bench.holds("its answer", Bench.answers(x, 0, 0, Bench.map(1, Bench.four(first))));
+        Bench.due("a PUBLIC", x.sort(first), 2);
         Bench.due("no other term", x.terms(), terms);
         Bench.due("a right TRY", Bench.unlock(x, 2, 0, "1234"), 0);
         Bench.due("the same", asked(x), first);
         Bench.due("a wrong TRY", x.unlock(1, 0), 49);
         int second = asked(x);
         Bench.holds("another", second != first);
-        powerOver(x);
+        Bench.powerOver(x);
         Bench.holds("another", asked(x) != second);
     }
 
@@ -191,7 +189,7 @@ public final class PinLimitsTest {
 
     @Sentence("PIN 3 (promise 12): 4 is not the MAC of THE KEY and 5: 51")
     static void setProof() {
-        PasskeyHouse x = house();
+        PasskeyHouse x = Bench.house();
         int own = meet(x);
         Bench.Pairs good = set(x, own, "1234");
         byte[] proof = Bench.four(sealed(x, 2, Bench.bytes(good.parts()[9])));
@@ -203,14 +201,14 @@ public final class PinLimitsTest {
         fault(x, "3 is another", Bench.with(good, 3, Bench.four(x.own(1))), 51);
         fault(x, "5 is another", Bench.with(good, 5, Bench.four(1)), 51);
         fault(x, "51 before 55", Bench.with(set(x, own, "1"), 4, Bench.four(1)), 51);
-        Bench.due("it", Bench.send(x, 0, 6, good), 0);
+        Bench.due("it, and 6 is passed over", Bench.send(x, 0, 6, Bench.more(good, 6, Bench.bytes("abc"))), 0);
     }
 
     @Sentence("A NEW PIN (promise 12): 5 is no ENC of THE KEY and 4 .. 12 bytes: 55")
     static void pinLengths() {
         for (int size : new int[] {0, 1, 3, 4, 5, 11, 12, 13, 14, 100}) {
             boolean good = size >= 4 && size <= 12;
-            PasskeyHouse x = house();
+            PasskeyHouse x = Bench.house();
             Bench.Pairs map = set(x, meet(x), Bench.text(size));
             Bench.due("set of " + size, Bench.send(x, 0, 6, map), good ? 0 : 55);
             Bench.holds("the status alone", Bench.answers(x, 0, good ? 0 : 55));
@@ -224,7 +222,7 @@ public final class PinLimitsTest {
 
     @Sentence("A NEW PIN (promise 12): 5 is no ENC of THE KEY: another sort, another key, no term: 55")
     static void pinOfOther() {
-        PasskeyHouse x = house();
+        PasskeyHouse x = Bench.house();
         int own = meet(x);
         x.own(2);
         x.agree(2, x.own(3));
@@ -243,7 +241,7 @@ public final class PinLimitsTest {
 
     @Sentence("A NEW PIN (promise 12): any bytes may be a PIN, and PIN is the HASH of these")
     static void anyBytes() {
-        PasskeyHouse x = house();
+        PasskeyHouse x = Bench.house();
         byte[] pin = Bench.bytes(0, 255, 128, 0);
         Bench.due("set", Bench.send(x, 0, 6, set(x, meet(x), pin)), 0);
         Bench.holds("PIN", Bench.isRecord(x, 0, 0, 12, 2, Bench.four(sealed(x, 0, pin))));
@@ -256,7 +254,7 @@ public final class PinLimitsTest {
 
     @Sentence("PIN 4 and 5 (promise 12): no PIN: 53, before all that comes then")
     static void noPin() {
-        PasskeyHouse x = house();
+        PasskeyHouse x = Bench.house();
         int own = meet(x);
         fault(x, "4", change(x, own, "5678", "1234"), 53);
         fault(x, "4, a wrong proof", Bench.with(change(x, own, "5678", "1234"), 4, Bench.four(1)), 53);
@@ -264,28 +262,34 @@ public final class PinLimitsTest {
         Bench.due("no try is taken", x.told(0, 9), 8);
     }
 
-    @Sentence("PIN 4 and 5 (promise 12): no tries left: 50, before 52 and 51")
-    static void noTriesLeft() {
+    /** A key with no tries left, of which three were wrong since power. */
+    private static PasskeyHouse withoutTries() {
         PasskeyHouse x = withPin();
         int[] due = {49, 49, 49, 49, 52, 49, 49, 50};
         for (int i = 0; i < due.length; i++) {
             if (i == 2 || i == 5) {
-                powerOver(x);
+                Bench.powerOver(x);
             }
             Bench.due("wrong " + i, x.unlock(1, 0), due[i]);
             Bench.due("tries", x.told(0, 9), 7 - i);
         }
+        return x;
+    }
+
+    @Sentence("PIN 4 and 5 (promise 12): no tries left: 50, before 52 and 51")
+    static void noTriesLeft() {
+        PasskeyHouse x = withoutTries();
         int own = meet(x);
         fault(x, "three wrong and no tries left, 5", ask(x, own, "1234"), 50);
         fault(x, "4", change(x, own, "5678", "1234"), 50);
         fault(x, "4, a wrong proof", Bench.with(change(x, own, "5678", "1234"), 4, Bench.four(1)), 50);
-        powerOver(x);
+        Bench.powerOver(x);
         own = meet(x);
         fault(x, "with power", ask(x, own, "1234"), 50);
         fault(x, "with power, 4", change(x, own, "5678", "1234"), 50);
         fault(x, "3: there is a PIN still", set(x, own, "5678"), 51);
         Bench.due("tries", x.told(0, 9), 0);
-        powerOver(x);
+        Bench.powerOver(x);
         x.press(0);
         Bench.due("RESET", Bench.send(x, 0, 7), 0);
         Bench.due("tries", x.told(0, 9), 8);
@@ -303,7 +307,7 @@ public final class PinLimitsTest {
         fault(x, "4, the right PIN", change(x, own, "5678", "1234"), 52);
         fault(x, "4, a wrong proof", Bench.with(change(x, own, "5678", "1234"), 4, Bench.four(1)), 52);
         Bench.due("tries stay", x.told(0, 9), 5);
-        powerOver(x);
+        Bench.powerOver(x);
         Bench.due("with power", Bench.unlock(x, 2, 0, "1234"), 0);
         Bench.due("tries", x.told(0, 9), 8);
     }
@@ -323,6 +327,8 @@ public final class PinLimitsTest {
         Bench.due("tries", x.told(0, 9), 8);
         Bench.due("none was wrong", x.unlock(1, 0), 49);
         fault(x, "the secret to agree with is another now", good, 51);
+        Bench.Pairs other = change(x, meet(x), "5678", "1234");
+        Bench.due("it, and 7 is passed over", Bench.send(x, 0, 6, Bench.more(other, 7, Bench.bytes("abc"))), 0);
     }
 
     @Sentence("A TRY (promise 12): TRIES, one less, is written")
@@ -356,7 +362,7 @@ public final class PinLimitsTest {
         int own = meet(x);
         Object[][] wrong = {{"1234"}, {Bench.four(hash), 0}, {0, Bench.four(hash)}, {Bench.bytes(hash)}, {}, {Bench.four(0)}};
         for (Object[] parts : wrong) {
-            powerOver(x);
+            Bench.powerOver(x);
             own = meet(x);
             int six = sealed(x, 1, parts);
             Bench.due("6 is another", Bench.send(x, 0, 6, Bench.map(1, 1, 2, 5, 3, Bench.four(own), 6, Bench.four(six))), 49);
@@ -365,7 +371,7 @@ public final class PinLimitsTest {
         byte[] six = Bench.four(sealed(x, 1, Bench.four(hash)));
         Bench.due("6 of five bytes", Bench.send(x, 0, 6, Bench.map(1, 1, 2, 5, 3, Bench.four(own), 6, Bench.bytes(six, 0))), 49);
         Bench.due("one try is left", x.told(0, 9), 1);
-        powerOver(x);
+        Bench.powerOver(x);
         own = meet(x);
         six = Bench.four(sealed(x, 1, Bench.four(hash)));
         Bench.due("it, with the last try", Bench.send(x, 0, 6, Bench.map(1, 1, 2, 5, 3, Bench.four(own), 6, six)), 0);
@@ -391,20 +397,13 @@ public final class PinLimitsTest {
 
     @Sentence("A TRY (promise 12): a wrong one: 50 if no tries are left, before 52 if it was the third one SINCE POWER")
     static void lastAndThird() {
-        PasskeyHouse x = withPin();
-        int[] due = {49, 49, 49, 49, 52, 49, 49, 50};
-        for (int i = 0; i < due.length; i++) {
-            if (i == 2 || i == 5) {
-                powerOver(x);
-            }
-            Bench.due("wrong " + i, x.unlock(1, 0), due[i]);
-        }
+        Bench.due("the last one is the third one too", withoutTries().told(0, 9), 0);
         PasskeyHouse y = withPin();
         int[] others = {49, 49, 52, 49, 49, 52, 49, 50};
         for (int i = 0; i < others.length; i++) {
             Bench.due("wrong " + i, y.unlock(1, 0), others[i]);
             if (others[i] == 52) {
-                powerOver(y);
+                Bench.powerOver(y);
             }
         }
     }

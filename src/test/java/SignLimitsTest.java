@@ -10,24 +10,13 @@ public final class SignLimitsTest {
         Bench.run(SignLimitsTest.class);
     }
 
-    private static PasskeyHouse house() {
-        PasskeyHouse x = new PasskeyHouse();
-        x.key();
-        return x;
-    }
-
     /** A key with so many credentials for "a.ex", of users "1", "2", .. */
     private static PasskeyHouse with(int credentials) {
-        PasskeyHouse x = house();
+        PasskeyHouse x = Bench.house();
         for (int i = 1; i <= credentials; i++) {
             Bench.store(x, 0, "a.ex", String.valueOf(i));
         }
         return x;
-    }
-
-    private static void powerOver(PasskeyHouse x) {
-        x.power(0, false);
-        Bench.due("comes", x.power(0, true), true);
     }
 
     /** A status other than 0: so many presses are taken by it, no term is made, nothing is written. */
@@ -55,7 +44,7 @@ public final class SignLimitsTest {
 
     @Sentence("SIGN (promise 12): uv true: 43, before the PIN test, 46 and 39")
     static void userVerification() {
-        PasskeyHouse x = house();
+        PasskeyHouse x = Bench.house();
         Bench.Pairs uv = Bench.more(GOOD, 5, Bench.map("uv", true));
         fault(x, "before 46", uv, 43, 0);
         fault(x, "before 51", Bench.more(uv, 6, Bench.four(1)), 43, 0);
@@ -68,7 +57,7 @@ public final class SignLimitsTest {
 
     @Sentence("SIGN (promise 12): With 6 THE PIN TEST: 39, 49, 53, 51 before 46")
     static void pinTestFirst() {
-        PasskeyHouse x = house();
+        PasskeyHouse x = Bench.house();
         fault(x, "empty, no press", Bench.more(GOOD, 6, Bench.bytes()), 39, 0);
         x.press(0);
         fault(x, "empty, no PIN", Bench.more(GOOD, 6, Bench.bytes()), 53, 1);
@@ -98,13 +87,13 @@ public final class SignLimitsTest {
         fault(x, "of another hash", Bench.more(UNPRESSED, 6, Bench.four(other), 7, 1), 51, 0);
         fault(x, "of five bytes", Bench.more(UNPRESSED, 6, Bench.bytes(Bench.four(mark), 0), 7, 1), 51, 0);
         Bench.due("it", Bench.send(x, 0, 2, Bench.more(UNPRESSED, 6, Bench.four(mark), 7, 1)), 0);
-        powerOver(x);
+        Bench.powerOver(x);
         fault(x, "of the token of before", Bench.more(UNPRESSED, 6, Bench.four(mark), 7, 1), 51, 0);
     }
 
     @Sentence("SIGN (promise 12): None: 46, before 39")
     static void noCandidate() {
-        PasskeyHouse x = house();
+        PasskeyHouse x = Bench.house();
         fault(x, "no credential, no press", GOOD, 46, 0);
         x.press(0);
         fault(x, "no credential", GOOD, 46, 0);
@@ -201,6 +190,9 @@ public final class SignLimitsTest {
     static void howMany() {
         for (int many = 1; many <= 6; many++) {
             PasskeyHouse x = with(many);
+            if (many < 6) {
+                Bench.store(x, 0, "b.ex", "9");
+            }
             Bench.due("SIGN", Bench.send(x, 0, 2, UNPRESSED), 0);
             int name = x.credential(0, 0, 1);
             Bench.Pairs map = Bench.map(1, Bench.entry(x.credential(0, many - 1, 0)), 2, data(name, 0, 1),
@@ -240,7 +232,7 @@ public final class SignLimitsTest {
         }
         Bench.due("256", Bench.answerFour(x, 0, 35), 256);
         Bench.due("its count", x.credential(0, 0, 2), 256);
-        powerOver(x);
+        Bench.powerOver(x);
         Bench.due("its count when it woke", x.credential(0, 0, 2), 256);
     }
 
@@ -325,7 +317,7 @@ public final class SignLimitsTest {
     static void powerEndsList() {
         PasskeyHouse x = with(2);
         Bench.due("SIGN", Bench.send(x, 0, 2, UNPRESSED), 0);
-        powerOver(x);
+        Bench.powerOver(x);
         fault(x, "power ended it", 8, 48, 0);
         PasskeyHouse y = with(3);
         Bench.due("SIGN", Bench.send(y, 0, 2, UNPRESSED), 0);
@@ -339,7 +331,7 @@ public final class SignLimitsTest {
 
     @Sentence("INFO (promise 12): whether there is a PIN; 400; and nothing is changed but the list and that a command came")
     static void info() {
-        PasskeyHouse x = house();
+        PasskeyHouse x = Bench.house();
         byte[] head = Bench.bytes(0, Bench.hex("a5 01 81 68"), "FIDO_2_0", Bench.hex("03 42 0000 04 a3 62"), "rk", Bench.hex("f5 62"),
             "up", Bench.hex("f5 69"), "clientPin");
         byte[] tail = Bench.hex("05 190190 06 81 01");
@@ -350,7 +342,7 @@ public final class SignLimitsTest {
         Bench.setPin(x, 0, 0, "1234");
         Bench.due("INFO", Bench.send(x, 0, 4), 0);
         Bench.holds("a PIN", Bench.answers(x, 0, head, 0xf5, tail));
-        powerOver(x);
+        Bench.powerOver(x);
         x.press(0);
         Bench.due("RESET", Bench.send(x, 0, 7), 0);
         Bench.due("INFO", Bench.send(x, 0, 4), 0);
@@ -364,30 +356,30 @@ public final class SignLimitsTest {
         byte[][] messages = {Bench.bytes(), Bench.bytes(4), Bench.bytes(8), Bench.bytes(7, 7), Bench.bytes(3), Bench.bytes(6),
             Bench.bytes(6, Bench.map(1, 1, 2, 1))};
         for (byte[] message : messages) {
-            PasskeyHouse x = house();
+            PasskeyHouse x = Bench.house();
             Bench.holds("a message", Bench.send(x, 0, message) >= 0);
             fault(x, "without a press", 7, 48, 0);
             x.press(0);
             fault(x, "with a press", 7, 48, 0);
-            powerOver(x);
+            Bench.powerOver(x);
             Bench.due("since power there was none", Bench.send(x, 0, 7), 0);
         }
     }
 
     @Sentence("RESET (promise 12): A command came since power (this one not counted)")
     static void resetItself() {
-        PasskeyHouse x = house();
+        PasskeyHouse x = Bench.house();
         x.press(0);
         Bench.due("RESET as the first message", Bench.send(x, 0, 7), 0);
         x.press(0);
         fault(x, "a second RESET came behind the first", 7, 48, 0);
-        powerOver(x);
+        Bench.powerOver(x);
         Bench.due("RESET", Bench.send(x, 0, 7), 0);
     }
 
     @Sentence("RESET (promise 12): a message to another key, a SILENT one and a refused one are no command since power")
     static void noCommands() {
-        PasskeyHouse x = house();
+        PasskeyHouse x = Bench.house();
         x.key();
         Bench.due("to another key", Bench.send(x, 1, 4), 0);
         x.command(0, 2);
@@ -401,9 +393,9 @@ public final class SignLimitsTest {
 
     @Sentence("RESET (promise 12): 39 without a press; one is taken")
     static void resetPress() {
-        PasskeyHouse x = house();
+        PasskeyHouse x = Bench.house();
         fault(x, "no press", 7, 39, 0);
-        powerOver(x);
+        Bench.powerOver(x);
         x.press(0);
         x.press(0);
         Bench.due("RESET", Bench.send(x, 0, 7), 0);
@@ -417,7 +409,7 @@ public final class SignLimitsTest {
         Bench.due("sign", Bench.signBy(x, 0, "a.ex", Bench.wrap(x, 0, "a.ex")), 0);
         Bench.setPin(x, 0, 0, "1234");
         Bench.due("wrong", Bench.unlock(x, 0, 0, "4321"), 49);
-        powerOver(x);
+        Bench.powerOver(x);
         x.press(0);
         int terms = x.terms();
         int acts = x.told(0, 1);
@@ -438,7 +430,7 @@ public final class SignLimitsTest {
         for (int acts = 0; acts < 16; acts++) {
             PasskeyHouse x = with(1);
             Bench.setPin(x, 0, 0, "1234");
-            powerOver(x);
+            Bench.powerOver(x);
             x.press(0);
             x.cut(0, acts);
             Bench.due("RESET", Bench.send(x, 0, 7), -3);
@@ -452,12 +444,50 @@ public final class SignLimitsTest {
 
     @Sentence("RESET (promise 12): then a new secret to agree with, a new TOKEN, and no wrong ones")
     static void newAfterReset() {
-        PasskeyHouse x = house();
+        PasskeyHouse x = Bench.house();
         int own = x.own(0);
         Bench.holds("PUBLIC", own > 0);
         x.press(0);
         Bench.due("RESET", Bench.send(x, 0, 7), 0);
         Bench.store(x, 0, "a", "u");
         Bench.due("1, 2 the key's, 3 the hand's, 4, 5 by RESET, 6 the credential's", x.flash(0, 256 + 12 + 2 + 11), 6);
+    }
+
+    // ---- answers
+
+    /** The item of the latest answer is sent back as a PIN message, in which 18 is for what is not canonical. */
+    private static void canonicalAnswer(PasskeyHouse x, String what) {
+        int size = x.take(0);
+        Bench.holds(what + ": at most 400 bytes", size > 1 && size <= 400);
+        x.poke(0, 6);
+        x.command(0, -1);
+        Bench.holds(what + ": canonical", x.answer(0, 0) != 18);
+    }
+
+    @Sentence("COMMANDS (promise 12): behind 0 perhaps an item (canonical; at most 400 bytes)")
+    static void answersAreCanonical() {
+        PasskeyHouse x = Bench.house();
+        Bench.due("INFO", Bench.send(x, 0, 4), 0);
+        canonicalAnswer(x, "INFO");
+        Bench.due("tries", Bench.send(x, 0, 6, Bench.map(1, 1, 2, 1)), 0);
+        canonicalAnswer(x, "tries");
+        Bench.due("PUBLIC", Bench.send(x, 0, 6, Bench.map(1, 1, 2, 2)), 0);
+        canonicalAnswer(x, "PUBLIC");
+        for (int i = 0; i < 5; i++) {
+            Bench.store(x, 0, "a.ex", "user" + i + "888");
+            canonicalAnswer(x, "MAKE");
+        }
+        int wrapped = Bench.wrap(x, 0, "a.ex");
+        canonicalAnswer(x, "MAKE without rk");
+        Bench.due("SIGN", Bench.send(x, 0, 2, listing(Bench.entry(wrapped))), 0);
+        canonicalAnswer(x, "SIGN by an entry");
+        Bench.due("SIGN", Bench.send(x, 0, 2, UNPRESSED), 0);
+        canonicalAnswer(x, "SIGN of several");
+        Bench.due("SIGN", Bench.send(x, 0, 2, UNPRESSED), 0);
+        Bench.due("NEXT", Bench.send(x, 0, 8), 0);
+        canonicalAnswer(x, "NEXT");
+        Bench.setPin(x, 0, 0, "1234");
+        Bench.due("unlock", x.unlock(0, 0), 0);
+        canonicalAnswer(x, "SENT");
     }
 }

@@ -16,12 +16,6 @@ public final class SignTest {
         Bench.end();
     }
 
-    private static PasskeyHouse house() {
-        PasskeyHouse x = new PasskeyHouse();
-        x.key();
-        return x;
-    }
-
     private static void status(PasskeyHouse x, String what, Bench.Pairs map, int want) {
         int terms = x.terms();
         int acts = x.told(0, 1);
@@ -32,7 +26,7 @@ public final class SignTest {
     }
 
     private static void faults() {
-        PasskeyHouse x = house();
+        PasskeyHouse x = Bench.house();
         status(x, "good", GOOD, 46);
         status(x, "name bytes", Bench.with(GOOD, 1, Bench.bytes("a.ex")), 17);
         status(x, "hash a text", Bench.with(GOOD, 2, "abcd"), 17);
@@ -59,7 +53,7 @@ public final class SignTest {
     }
 
     private static void order() {
-        PasskeyHouse x = house();
+        PasskeyHouse x = Bench.house();
         Bench.Pairs shortHash = Bench.with(GOOD, 2, Bench.bytes());
         status(x, "17 before 20", Bench.more(Bench.with(GOOD, 1, null), 7, "x"), 17);
         status(x, "20 before 2", Bench.with(shortHash, 1, null), 20);
@@ -71,7 +65,7 @@ public final class SignTest {
     }
 
     private static void pinTest() {
-        PasskeyHouse x = house();
+        PasskeyHouse x = Bench.house();
         int id = Bench.store(x, 0, "a.ex", "u");
         status(x, "empty, no press", Bench.more(GOOD, 6, Bench.bytes()), 39);
         x.press(0);
@@ -103,7 +97,7 @@ public final class SignTest {
     }
 
     private static void byEntry() {
-        PasskeyHouse x = house();
+        PasskeyHouse x = Bench.house();
         int wrapped = Bench.wrap(x, 0, "a.ex");
         int stored = Bench.store(x, 0, "a.ex", "user");
         int other = Bench.store(x, 0, "b.ex", "user");
@@ -143,7 +137,7 @@ public final class SignTest {
     }
 
     private static void byName() {
-        PasskeyHouse x = house();
+        PasskeyHouse x = Bench.house();
         int stored = Bench.store(x, 0, "a.ex", "user");
         int wrapped = Bench.wrap(x, 0, "b.ex");
         int hash = x.credential(0, 0, 1);
@@ -163,7 +157,7 @@ public final class SignTest {
     }
 
     private static void several() {
-        PasskeyHouse x = house();
+        PasskeyHouse x = Bench.house();
         int first = Bench.store(x, 0, "a.ex", "1");
         Bench.store(x, 0, "b.ex", "1");
         int second = Bench.store(x, 0, "a.ex", "22");
@@ -189,7 +183,7 @@ public final class SignTest {
     }
 
     private static void endOfList() {
-        PasskeyHouse x = house();
+        PasskeyHouse x = Bench.house();
         Bench.store(x, 0, "a.ex", "1");
         Bench.store(x, 0, "a.ex", "2");
         Bench.Pairs map = Bench.more(GOOD, 5, Bench.map("up", false));

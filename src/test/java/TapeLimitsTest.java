@@ -1,5 +1,3 @@
-import java.util.function.Supplier;
-
 /** Promises 1 to 7: the boundary cases of a new object, the tape, and the counting of terms. */
 public final class TapeLimitsTest {
 
@@ -9,15 +7,6 @@ public final class TapeLimitsTest {
 
     public static void main(String[] args) {
         Bench.run(TapeLimitsTest.class);
-    }
-
-    /** A furnished house whose tape has so many bytes. */
-    private static Supplier<PasskeyHouse> taped(int size) {
-        return () -> {
-            PasskeyHouse x = Twins.furnished();
-            Bench.lay(x, Bench.text(size));
-            return x;
-        };
     }
 
     // ---- Promise 1: a new object
@@ -112,10 +101,10 @@ public final class TapeLimitsTest {
 
     @Sentence("Promise 2: NONE: or there would be more than 400")
     static void feedAbove400() {
-        Twins.refused(taped(400), "feed to a full tape", x -> x.feed(WORD, 1), x -> x.feed(WORD, 8));
+        Twins.refused(Twins.taped(Bench.text(400)), "feed to a full tape", x -> x.feed(WORD, 1), x -> x.feed(WORD, 8));
         for (int n = 2; n <= 8; n++) {
             int more = n;
-            Twins.refused(taped(401 - n), "feed " + n + " to 401", x -> x.feed(WORD, more));
+            Twins.refused(Twins.taped(Bench.text(401 - n)), "feed " + n + " to 401", x -> x.feed(WORD, more));
         }
         for (int n = 1; n <= 8; n++) {
             PasskeyHouse x = new PasskeyHouse();
@@ -196,8 +185,8 @@ public final class TapeLimitsTest {
     static void pokeOfNoByte() {
         Twins.refused(Twins::furnished, "poke", x -> x.poke(16, 1), x -> x.poke(17, 1), x -> x.poke(-1, 1),
             x -> x.poke(LEAST, 1), x -> x.poke(MOST, 1), x -> x.poke(400, 1));
-        Twins.refused(taped(0), "poke of an empty tape", x -> x.poke(0, 1));
-        Twins.refused(taped(400), "poke of a full tape", x -> x.poke(400, 1), x -> x.poke(-1, 1));
+        Twins.refused(Twins.taped(Bench.text(0)), "poke of an empty tape", x -> x.poke(0, 1));
+        Twins.refused(Twins.taped(Bench.text(400)), "poke of a full tape", x -> x.poke(400, 1), x -> x.poke(-1, 1));
         PasskeyHouse x = new PasskeyHouse();
         Bench.lay(x, Bench.text(16));
         Bench.due("the last byte", x.poke(15, 1), 'n');
@@ -231,7 +220,7 @@ public final class TapeLimitsTest {
         Bench.setPin(x, 0, 0, "1234");
         int calls = 5;
         int terms = x.terms();
-        while (calls < 510) {
+        while (calls < 500) {
             Bench.due("changePin", x.changePin(0, 0, 4), 0);
             calls++;
             terms += 5;

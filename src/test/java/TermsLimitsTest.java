@@ -45,6 +45,21 @@ public final class TermsLimitsTest {
         Bench.due("terms", x.terms(), hash);
     }
 
+    @Sentence("TERMS (promise 20): ENC and MAC of the same are other terms, whatever the bytes are")
+    static void encAndMac() {
+        for (int v = 0; v < 48; v++) {
+            PasskeyHouse x = new PasskeyHouse();
+            x.own(0);
+            x.agree(0, x.own(1));
+            Bench.lay(x, v, 0, "abcdef");
+            for (int i = 0; i < 150; i++) {
+                x.poke(1, i);
+                Bench.due("ENC of " + v + " " + i, x.seal(0, 1, -1), 4 + 2 * i);
+                Bench.due("MAC of " + v + " " + i, x.seal(0, 2, -1), 5 + 2 * i);
+            }
+        }
+    }
+
     @Sentence("TERMS (promise 20): a row is its numbers, each at its place, and no more of them")
     static void nearRows() {
         PasskeyHouse x = new PasskeyHouse();

@@ -133,6 +133,15 @@ final class Twins {
         return x;
     }
 
+    /** A furnished house with these bytes on the tape. */
+    static Supplier<PasskeyHouse> taped(Object... parts) {
+        return () -> {
+            PasskeyHouse x = furnished();
+            Bench.lay(x, parts);
+            return x;
+        };
+    }
+
     private static void made(PasskeyHouse x, int key, int challenge, int party, long user, int m, int how) {
         x.press(key);
         Bench.lay(x, "a.ex");
