@@ -330,7 +330,7 @@ public final class KeyLimitsTest {
     @Sentence("Promise 12: NONE: or there are not so many bytes")
     static void commandOfNoBytes() {
         Twins.refused(Twins::furnished, "command", x -> x.command(0, 17), x -> x.command(0, -2), x -> x.command(0, 400),
-            x -> x.command(0, LEAST), x -> x.command(0, MOST));
+            x -> x.command(0, LEAST), x -> x.command(0, MOST), x -> x.command(2, 17), x -> x.command(2, -2));
         Twins.refused(off(0), "command to one that is off", x -> x.command(0, 17), x -> x.command(0, -2));
         Bench.due("just so many", Twins.furnished().command(0, 16), 1);
     }

@@ -382,11 +382,11 @@ public final class SignLimitsTest {
         PasskeyHouse x = Bench.house();
         x.key();
         Bench.due("to another key", Bench.send(x, 1, 4), 0);
-        x.command(0, 2);
-        x.command(0, -2);
         x.power(0, false);
         Bench.due("SILENT", x.command(0, -1), -3);
         x.power(0, true);
+        Bench.due("refused", x.command(0, 2), -1);
+        Bench.due("refused", x.command(0, -2), -1);
         x.press(0);
         Bench.due("RESET", Bench.send(x, 0, 7), 0);
     }

@@ -27,12 +27,12 @@ final class Twins {
         boolean on(PasskeyHouse x);
     }
 
-    /** All of these calls answer NONE, and nothing has changed by them. */
+    /** Each of these calls answers NONE, and nothing has changed by it. */
     static void refused(Supplier<PasskeyHouse> scene, String what, Call... calls) {
         answered(scene, what, PasskeyHouse.NONE, calls);
     }
 
-    /** All of these calls answer false, and nothing has changed by them. */
+    /** Each of these calls answers false, and nothing has changed by it. */
     static void denied(Supplier<PasskeyHouse> scene, String what, Question... questions) {
         Call[] calls = new Call[questions.length];
         for (int i = 0; i < calls.length; i++) {
@@ -42,19 +42,17 @@ final class Twins {
         answered(scene, what, 0, calls);
     }
 
-    /** All of these calls answer this, and both houses answer all looks alike then. */
+    /** Each of these calls answers this, and both houses answer all looks alike then. */
     static void answered(Supplier<PasskeyHouse> scene, String what, int want, Call... calls) {
-        PasskeyHouse first = scene.get();
         for (int i = 0; i < calls.length; i++) {
-            Bench.due(what + ", call " + (i + 1), calls[i].on(first), want);
-        }
-        Bench.holds(what + ": nothing has changed", areAlike(scene, () -> {
-            PasskeyHouse x = scene.get();
-            for (Call call : calls) {
+            Call call = calls[i];
+            Bench.due(what + ", call " + (i + 1), call.on(scene.get()), want);
+            Bench.holds(what + ", call " + (i + 1) + ": nothing has changed", areAlike(scene, () -> {
+                PasskeyHouse x = scene.get();
                 call.on(x);
-            }
-            return x;
-        }));
+                return x;
+            }));
+        }
     }
 
     static boolean areAlike(Supplier<PasskeyHouse> one, Supplier<PasskeyHouse> other) {
@@ -70,6 +68,7 @@ final class Twins {
         List<Function<PasskeyHouse, String>> all = new ArrayList<>();
         all.add(x -> tape(x, 0, MOST_TAPE / 2));
         all.add(x -> tape(x, MOST_TAPE / 2, MOST_TAPE + 1));
+        all.add(Twins::answers);
         all.add(Twins::keys);
         for (int k = 0; k < 3; k++) {
             for (int area = 0; area < 2; area++) {
@@ -88,7 +87,9 @@ final class Twins {
         all.add(Twins::tokens);
         all.add(Twins::pins);
         all.add(Twins::pages);
-        all.add(Twins::logins);
+        all.add(Twins::pagesOfTape);
+        all.add(x -> logins(x, 0, 2));
+        all.add(x -> logins(x, 1, 0));
         all.add(Twins::offers);
         all.add(Twins::nextOnes);
         return all;
@@ -109,6 +110,8 @@ final class Twins {
         Bench.due("unlock without a PIN", x.unlock(1, 0), 49);
         int other = x.own(2);
         Bench.due("agree", x.agree(1, other), true);
+        Bench.due("PUBLIC of key 0", Bench.send(x, 0, 6, Bench.map(1, 1, 2, 2)), 0);
+        Bench.due("PUBLIC of key 1", Bench.send(x, 1, 6, Bench.map(1, 1, 2, 2)), 0);
         x.offer(0, '1', 1, false, true);
         made(x, 0, 0, 0, '1', 1, 3);
         Bench.due("judge", x.judge(0, -1), 0);
@@ -120,8 +123,10 @@ final class Twins {
         Bench.lay(x, "tape!");
         for (int what = 0; what <= 4; what++) {
             x.seal(0, what, -1);
-            x.seal(1, what, -1);
         }
+        x.seal(1, 1, -1);
+        x.seal(1, 2, -1);
+        x.seal(1, 4, -1);
         x.seal(2, 4, -1);
         x.press(0);
         x.press(0);
@@ -156,6 +161,16 @@ final class Twins {
         return all.append(x.terms()).append(' ').append(x.wipe()).toString();
     }
 
+    private static String answers(PasskeyHouse x) {
+        StringBuilder all = new StringBuilder();
+        for (int i = 0; i < 80; i++) {
+            for (int k = 0; k < 3; k++) {
+                all.append(x.answer(k, i)).append(' ');
+            }
+        }
+        return all.toString();
+    }
+
     private static String keys(PasskeyHouse x) {
         StringBuilder all = new StringBuilder();
         int terms = x.terms();
@@ -170,9 +185,6 @@ final class Twins {
                 for (int what = 0; what < 7; what++) {
                     all.append(x.credential(k, i, what)).append(' ');
                 }
-            }
-            for (int i = 0; i < 50; i++) {
-                all.append(x.answer(k, i)).append(' ');
             }
         }
         return all.toString();
@@ -202,8 +214,8 @@ final class Twins {
     private static String seals(PasskeyHouse x) {
         StringBuilder all = new StringBuilder();
         Bench.lay(x, "tape!");
-        for (int hand = 0; hand < 4; hand++) {
-            for (int what = 0; what <= 4; what++) {
+        for (int what = 4; what >= 0; what--) {
+            for (int hand = 0; hand < 4; hand++) {
                 all.append(x.seal(hand, what, -1)).append(' ');
             }
         }
@@ -236,14 +248,14 @@ final class Twins {
         return all.toString();
     }
 
-    /** Each key writes until power fails, if it was told to. */
+    /** Each key writes until power fails, if it was told to; key 0 alone has a PIN, and its token is the hand's. */
     private static String cuts(PasskeyHouse x) {
         StringBuilder all = new StringBuilder();
         for (int k = 0; k < 3; k++) {
             for (int times = 0; times < 3; times++) {
                 x.press(k);
                 Bench.lay(x, "a.ex");
-                all.append(x.create(0, k, 5, -1, 90, 1 + times, NAME, 3)).append(' ');
+                all.append(x.create(0, k, 5, -1, 90, 1 + times, NAME, k == 0 ? 3 : 1)).append(' ');
             }
             all.append(x.told(k, 0)).append(' ').append(x.told(k, 1)).append(' ').append(x.told(k, 3)).append(' ');
         }
@@ -283,13 +295,18 @@ final class Twins {
         return all.append(x.unlock(0, 0)).append(x.terms()).toString();
     }
 
-    /** The PIN that each hand types, seen by what key 2 stores. */
+    /** The PIN that each hand types, seen by what it sends to key 2: ENC, which the hand can open, and MAC are made last. */
     private static String pins(PasskeyHouse x) {
         StringBuilder all = new StringBuilder();
         for (int hand = 0; hand < 4; hand++) {
-            all.append(x.setPin(hand, 2)).append(' ').append(x.told(2, 10)).append(' ').append(x.terms()).append(' ');
-            for (int i = 12; i < 20; i++) {
-                all.append(x.flash(2, i)).append(' ');
+            all.append(x.setPin(hand, 2)).append(' ').append(x.told(2, 10)).append(' ');
+            int terms = x.terms();
+            for (int t = terms - 3; t <= terms; t++) {
+                int size = x.open(hand, t);
+                all.append(x.sort(t)).append(' ').append(size).append(':');
+                for (int i = 0; i < size; i++) {
+                    all.append(x.at(i)).append(' ');
+                }
             }
         }
         return all.toString();
@@ -307,17 +324,28 @@ final class Twins {
         return all.toString();
     }
 
-    /** The offers, by what they are good for. */
-    private static String logins(PasskeyHouse x) {
+    /** Whether the first bytes of the tape, which may have become a page, are right for one; key 1 has no such credential. */
+    private static String pagesOfTape(PasskeyHouse x) {
+        StringBuilder all = new StringBuilder();
+        for (int hand = 3; hand >= 0; hand--) {
+            for (int n = 1; n <= 24; n++) {
+                all.append(x.get(hand, 1, 5, -1, 1, 1, n, 0)).append(' ');
+            }
+        }
+        return all.toString();
+    }
+
+    /** The offers, by what they are good for: with the PIN at key 0, and without it. */
+    private static String logins(PasskeyHouse x, int key, int how) {
         StringBuilder all = new StringBuilder();
         for (int times = 0; times < 3; times++) {
-            x.press(0);
+            x.press(key);
             Bench.lay(x, "a.ex");
-            all.append(x.create(0, 0, 0, 0, 60 + times, 1, NAME, 6)).append(' ').append(x.at(4)).append(' ');
+            all.append(x.create(0, key, 0, 0, 60 + times, 1, NAME, 4 + how)).append(' ').append(x.at(4)).append(' ');
             all.append(x.judge(0, -1)).append(' ');
             x.press(0);
             Bench.lay(x, "a.ex");
-            all.append(x.get(0, 0, 0, 0, '1', 1, NAME, 2)).append(' ').append(x.at(4)).append(' ');
+            all.append(x.get(0, 0, 0, 0, '1', 1, NAME, how)).append(' ').append(x.at(4)).append(' ');
             all.append(x.judge(0, -1)).append(' ');
         }
         return all.append(accounts(x)).toString();
