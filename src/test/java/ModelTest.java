@@ -19,8 +19,9 @@ public final class ModelTest {
     private static final String[] PAGES = {"b.c", "a.b.c", "x.a.b.c", "ab.c", "c", "my.example", "example", "n".repeat(24), "",
         "p".repeat(15) + "." + "n".repeat(24)};
     private static final String[] PINS = {"1234", "4321", "123456789012", "123", ""};
-    private static final long[] USERS = {7, 0x3031, -1, 0, 0x0102030405060708L};
-    private static final int[] WIDTHS = {1, 2, 8, 1, 8};
+    // Bytes above the width do not count.
+    private static final long[] USERS = {7, 0x3031, -1, 0, 0x0102030405060708L, -1, 0x0807060504030201L};
+    private static final int[] WIDTHS = {1, 2, 8, 1, 8, 3, 7};
     private static final int[] EDGES = {Integer.MIN_VALUE, -3, -2, -1, 0, 1, 2, 3, 4, 8, 9, 12, 13, 24, 25, 40, 41, 255, 256, 400, 401,
         2000, 2001, Integer.MAX_VALUE};
     private static final Map<String, Method> REAL = methods(PasskeyHouse.class);
@@ -94,7 +95,7 @@ public final class ModelTest {
 
     /** Whether all answers of a run were alike; what was answered is counted. */
     private boolean run(int[] seen) {
-        int[] weights = new int[25];
+        int[] weights = new int[28];
         for (int i = 0; i < weights.length; i++) {
             weights[i] = dice.nextInt(3) == 0 ? 0 : 1 + dice.nextInt(8);
         }
@@ -145,7 +146,7 @@ public final class ModelTest {
             case 2 -> call("cut", key(), dice.nextInt(3) == 0 ? -1 : dice.nextInt(dice.nextBoolean() ? 30 : 200));
             case 3 -> typing();
             case 4 -> newParty();
-            case 5 -> call("offer", party(), user(dice.nextInt(5)), width(dice.nextInt(5)), dice.nextBoolean(), dice.nextInt(4) == 0);
+            case 5 -> call("offer", party(), user(dice.nextInt(7)), width(dice.nextInt(7)), dice.nextBoolean(), dice.nextInt(4) == 0);
             case 6, 7 -> creating(seen);
             case 8, 9 -> getting(seen);
             case 10 -> pins(seen);
@@ -162,6 +163,8 @@ public final class ModelTest {
             case 21 -> guessing(seen);
             case 22 -> counting(seen);
             case 23 -> stuffing();
+            case 24, 25 -> withPin(seen);
+            case 26 -> several(seen);
             default -> look();
         }
     }
@@ -266,11 +269,18 @@ public final class ModelTest {
         return NAMES[dice.nextInt(NAMES.length)];
     }
 
+    /** 0, a challenge that stands, or some term. */
+    private int challenge(int party) {
+        List<Model.Ask> asks = party >= 0 && party < model.sites.size() ? model.sites.get(party).asks : List.of();
+        int what = dice.nextInt(8);
+        return what == 0 ? term(1) : what < 4 && !asks.isEmpty() ? one(asks).challenge() : 0;
+    }
+
     private void creating(int[] seen) {
         int hand = hand();
         int key = key();
         int party = party();
-        int u = dice.nextInt(5);
+        int u = dice.nextInt(USERS.length);
         if (dice.nextInt(4) != 0) {
             call("offer", party, user(u), width(u), false, dice.nextInt(4) == 0);
         }
@@ -279,8 +289,8 @@ public final class ModelTest {
         }
         String name = nameFor(hand, party);
         lay(Model.letters(name));
-        answered(call("create", hand, key, dice.nextInt(8) == 0 ? term(1) : 0, dice.nextInt(10) == 0 ? -1 : party, user(u), width(u),
-            name.length(), dice.nextInt(8)), seen);
+        answered(call("create", hand, key, challenge(party), dice.nextInt(10) == 0 ? -1 : party, user(u), width(u),
+            name.length(), dice.nextInt(dice.nextInt(8) == 0 ? 10 : 8)), seen);
         after(party, seen);
     }
 
@@ -288,7 +298,7 @@ public final class ModelTest {
         int hand = hand();
         int key = key();
         int party = party();
-        int u = dice.nextInt(5);
+        int u = dice.nextInt(USERS.length);
         if (dice.nextInt(4) != 0) {
             call("offer", party, user(u), width(u), true, dice.nextInt(4) == 0);
         }
@@ -297,8 +307,8 @@ public final class ModelTest {
         }
         String name = nameFor(hand, party);
         lay(Model.letters(name));
-        int how = dice.nextInt(16);
-        int status = call("get", hand, key, dice.nextInt(8) == 0 ? term(1) : 0, dice.nextInt(10) == 0 ? -1 : party, user(u), width(u),
+        int how = dice.nextInt(dice.nextInt(8) == 0 ? 18 : 16);
+        int status = call("get", hand, key, challenge(party), dice.nextInt(10) == 0 ? -1 : party, user(u), width(u),
             name.length(), dice.nextBoolean() ? how & ~4 : how);
         answered(status, seen);
         after(party, seen);
@@ -419,14 +429,14 @@ public final class ModelTest {
         if (party < 0 || party >= model.sites.size()) {
             return;
         }
-        int u = dice.nextInt(5);
+        int u = dice.nextInt(USERS.length);
         boolean get = dice.nextBoolean();
         Model.Site site = model.sites.get(party);
         int challenge = call("offer", party, user(u), width(u), get, false);
         int own = call("own", 3);
         int hash = sealed(0, Model.row(get ? 2 : 1, Model.four(challenge), site.origin));
         int name = sealed(0, site.name);
-        int id = term(dice.nextBoolean() ? 1 : 7);
+        int id = site.members.isEmpty() || dice.nextBoolean() ? term(1) : one(site.members).id;
         List<Integer> data = Model.row(Model.four(name), dice.nextInt(4) == 0 ? dice.nextInt(256) : 69, Model.four(edge()));
         if (!get) {
             data = Model.row(data, Model.four(id), Model.four(own));
@@ -458,7 +468,7 @@ public final class ModelTest {
     /** One message that makes a credential, sent again and again, with users and names that change by a byte. */
     private void filling(int[] seen) {
         int key = key();
-        int u = dice.nextInt(5);
+        int u = dice.nextInt(USERS.length);
         List<Integer> before = Model.row(1, Model.head(5, 5), 1, Model.bytesItem(Model.four(1)), 2, Model.head(5, 1), text("id"), text("b.c"),
             3, Model.head(5, 1), text("id"), Model.head(2, width(u)));
         lay(Model.row(before, Model.big(user(u), width(u)), 4, Model.head(4, 1), Model.head(5, 2), text("alg"), Model.head(1, 6),
@@ -512,6 +522,7 @@ public final class ModelTest {
         if (n > 0 && dice.nextInt(3) == 0 && calls.size() < MOST_CALLS) {
             seen[call("answer", key, 0)]++;
             call("answer", key, dice.nextInt(n));
+            call("answer", key, dice.nextInt(n));
         }
     }
 
@@ -536,7 +547,7 @@ public final class ModelTest {
         lay(site.origin);
         call("page", 0, site.origin.size());
         for (int i = 0; i < 9; i++) {
-            int u = dice.nextInt(5);
+            int u = dice.nextInt(USERS.length);
             call("offer", party, user(u), width(u), false, dice.nextInt(8) == 0);
             call("press", key);
             lay(site.name);
@@ -547,6 +558,71 @@ public final class ModelTest {
             }
             judged(party, -1, seen);
         }
+    }
+
+    private Model.Site someSite() {
+        return model.sites.isEmpty() ? null : one(model.sites);
+    }
+
+    /** A hand stands on the page of a party, with a PIN at a key, and comes in with its token. */
+    private void withPin(int[] seen) {
+        Model.Site site = someSite();
+        int hand = dice.nextInt(2);
+        int key = key();
+        if (site == null || dice.nextInt(3) == 0) {
+            lay(Model.letters(PINS[dice.nextInt(2)]));
+            call("pin", hand, model.tape.size());
+            answered(call("setPin", hand, key), seen);
+            answered(call("unlock", hand, key), seen);
+            return;
+        }
+        int party = model.sites.indexOf(site);
+        lay(site.origin);
+        call("page", hand, site.origin.size());
+        answered(call("unlock", hand, key), seen);
+        for (int i = 0; i < 3; i++) {
+            int u = dice.nextInt(3);
+            boolean get = dice.nextBoolean();
+            call("offer", party, user(u), width(u), get, dice.nextBoolean());
+            call("press", key);
+            lay(site.name);
+            int how = dice.nextInt(4) == 0 ? dice.nextInt(8) : get ? 2 : 2 + dice.nextInt(2);
+            answered(call(get ? "get" : "create", hand, key, challenge(party), party, user(u), width(u), site.name.size(), how), seen);
+            after(party, seen);
+        }
+    }
+
+    /** Several users of a party have credentials in one key; they are asked for one behind the other. */
+    private void several(int[] seen) {
+        Model.Site site = someSite();
+        int key = key();
+        if (site == null) {
+            return;
+        }
+        int party = model.sites.indexOf(site);
+        lay(site.origin);
+        call("page", 1, site.origin.size());
+        for (int u = 0; u < 3; u++) {
+            call("offer", party, user(u), width(u), false, false);
+            call("press", key);
+            lay(site.name);
+            answered(call("create", 1, key, 0, party, user(u), width(u), site.name.size(), 5), seen);
+            after(party, seen);
+        }
+        int u = dice.nextInt(3);
+        call("offer", party, user(u), width(u), true, false);
+        call("press", key);
+        for (int i = dice.nextInt(4); i >= 0; i--) {
+            lay(site.name);
+            answered(call("get", 1, key, 0, party, user(u), width(u), site.name.size(), i == 3 ? 0 : model.chips.isEmpty() ? 8 : how(key)), seen);
+        }
+        after(party, seen);
+    }
+
+    /** The next one if there is a list, else a list. */
+    private int how(int key) {
+        boolean isList = key >= 0 && key < model.chips.size() && model.chips.get(key).list != null;
+        return isList ? 4 : 8;
     }
 
     /** Wrong PINs until no tries are left. */
@@ -638,9 +714,11 @@ public final class ModelTest {
     /** An item of any sort. */
     private List<Integer> strange(int depth) {
         int n = edge() & 65535;
-        switch (dice.nextInt(depth > 0 ? 7 : 5)) {
+        switch (dice.nextInt(depth > 0 ? 8 : 6)) {
             case 0:
                 return Model.head(dice.nextInt(2), n);
+            case 5:
+                return oddHead();
             case 1:
                 return Model.bytesItem(Model.big(dice.nextLong(), dice.nextInt(9)));
             case 2:
@@ -649,11 +727,18 @@ public final class ModelTest {
                 return flag();
             case 4:
                 return Model.row(dice.nextInt(256));
-            case 5:
+            case 6:
                 return array(List.of(strange(depth - 1)));
             default:
                 return Model.row(Model.head(5, 1), text("id"), strange(depth - 1));
         }
+    }
+
+    /** A number told by 1, 2 or 4 bytes, though fewer might do. */
+    private List<Integer> oddHead() {
+        long[] all = {0, 23, 24, 25, 255, 256, 65535, 65536, 2147483647L, 2147483648L, 4294967295L};
+        int x = 24 + dice.nextInt(4);
+        return Model.row(32 * dice.nextInt(2) + x, Model.big(all[dice.nextInt(all.length)], 1 << (x - 24)));
     }
 
     private List<Integer> entries() {
@@ -700,7 +785,7 @@ public final class ModelTest {
 
     private List<Integer> makeMessage() {
         List<Integer> hash = hash();
-        int u = dice.nextInt(5);
+        int u = dice.nextInt(USERS.length);
         List<List<Integer>> algorithms = new ArrayList<>();
         for (int i = dice.nextInt(6) == 0 ? 2 : 1; i > 0; i--) {
             algorithms.add(map("alg", Model.head(1, dice.nextInt(10) == 0 ? 5 : 6), "type", text("public-key")));
@@ -736,7 +821,7 @@ public final class ModelTest {
             call("command", key, -1);
             call("agree", hand, term(2));
         }
-        int five = sealedBy(hand, 1, Model.letters(PINS[dice.nextInt(PINS.length)]));
+        int five = dice.nextInt(8) == 0 ? term(4) : sealedBy(hand, 1, Model.letters(PINS[dice.nextInt(PINS.length)]));
         int hash = sealedBy(hand, 0, Model.letters(PINS[dice.nextInt(dice.nextBoolean() ? 1 : PINS.length)]));
         int six = sealedBy(hand, 1, Model.four(hash));
         int mac = sealedBy(hand, 2, step == 3 ? Model.four(five) : Model.row(Model.four(five), Model.four(six)));
